@@ -189,7 +189,7 @@ public final class KerbHours {
 
     public int judge(int car) throws IndexOutOfBoundsException {
         Stand stand = carOf(car).stand;
-        return stand == null ? NONE : judgementNow(stand);
+        return stand == null ? NONE : judgementOf(stand, now, isOnBlocked(stand));
     }
 
     public int look(int street) throws IndexOutOfBoundsException {
@@ -405,10 +405,6 @@ public final class KerbHours {
 
     // ---- payments, looks, fines
 
-    private int judgementNow(Stand stand) {
-        return judgementOf(stand, now, isOnBlocked(stand));
-    }
-
     private boolean isOnBlocked(Stand stand) {
         Street kerb = streetOf(stand.street);
         for (int i = 0; i < stand.car.length; i++) {
@@ -459,7 +455,7 @@ public final class KerbHours {
     }
 
     private void lookAt(Stand stand, Street kerb) {
-        int judgement = judgementNow(stand);
+        int judgement = judgementOf(stand, now, isOnBlocked(stand));
         int today = now / DAY;
         if (judgement == FINE || stand.finedOn == today || fines.size() >= MAX_FINES) {
             return;
@@ -651,7 +647,7 @@ public final class KerbHours {
         }
 
         boolean holdsOn(int day) {
-            return isIn(day, from, to);
+            return day >= from && day <= to;
         }
     }
 

@@ -5,6 +5,7 @@ public final class CarsTest {
         car(check);
         permitRefused(check);
         homeHasTwo(check);
+        homeHasTwoFromTheFirstOn(check);
         permitsAreForty(check);
         countsAs(check);
         hand(check);
@@ -71,6 +72,16 @@ public final class CarsTest {
         check.refusesState("a third, handed", () -> k.permit(0, 2, 4, 17, 18));
     }
 
+    private static void homeHasTwoFromTheFirstOn(Check check) {
+        KerbHours k = new KerbHours();
+        k.car(3, 0);
+        k.permit(0, 0, 7, 15, 30);
+        k.permit(0, 0, 7, 10, 20);
+        check.refusesState("a third over the begin of the first", () -> k.permit(0, 0, 7, 5, 16));
+        check.is("a second up to it", k.permit(0, 0, 7, 5, 14), 2);
+        check.refusesState("a third on 14", () -> k.permit(0, 0, 7, 14, 14));
+    }
+
     private static void permitsAreForty(Check check) {
         KerbHours k = new KerbHours();
         k.car(3, 0);
@@ -95,6 +106,10 @@ public final class CarsTest {
             k.permit(user, 0, user, 0, 520);
             check.is("user " + user + " with a permit", k.countsAs(user, 0), user);
         }
+        int second = k.car(3, KerbHours.RESIDENT);
+        k.permit(second, 1, 9, 0, 0);
+        check.is("the car of the permit", k.countsAs(second, 1), KerbHours.RESIDENT);
+        check.is("the first car, by the permit of another", k.countsAs(0, 1), KerbHours.VISITOR);
         k.permit(0, 2, 0, 1, 2);
         check.is("ahead of its days", k.countsAs(0, 2), KerbHours.VISITOR);
         k.pass(95);
@@ -108,7 +123,7 @@ public final class CarsTest {
         k.pass(1);
         check.is("behind its days", k.countsAs(0, 2), KerbHours.VISITOR);
         check.refusesIndex("countsAs(-1, 0)", () -> k.countsAs(-1, 0));
-        check.refusesIndex("countsAs(5, 0)", () -> k.countsAs(5, 0));
+        check.refusesIndex("countsAs(6, 0)", () -> k.countsAs(6, 0));
         check.refusesIndex("countsAs(0, -1)", () -> k.countsAs(0, -1));
         check.refusesIndex("countsAs(0, 4)", () -> k.countsAs(0, 4));
     }

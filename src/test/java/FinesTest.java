@@ -13,6 +13,8 @@ public final class FinesTest {
         judgedByStay(check);
         judgedByFee(check);
         judgedByPayment(check);
+        judgedOnItsMetresAlone(check);
+        judgedByItsQuarter(check);
         look(check);
         oneFineOnADay(check);
         finesAreSixty(check);
@@ -185,6 +187,43 @@ public final class FinesTest {
         check.is("a quarter later", k.judge(0), KerbHours.UNPAID);
         k.pay(0, 0, 11, 1);
         check.is("from now on", k.judge(0), KerbHours.FINE);
+    }
+
+    private static void judgedOnItsMetresAlone(Check check) {
+        KerbHours k = new KerbHours();
+        k.car(3, V);
+        k.pass(30);
+        k.sign(0, 19, 19, NOBODY, 1, true, false);
+        k.sign(0, 23, 23, NOBODY, 1, true, false);
+        k.block(0, 19, true);
+        k.block(0, 23, true);
+        k.park(0, 0, 20);
+        k.pass(3);
+        check.is("between what is wrong", k.judge(0), KerbHours.FINE);
+        k.sign(0, 20, 22, ALL, 2, false, false);
+        check.is("parked at 30, the stay and 1", k.judge(0), KerbHours.FINE);
+        k.pass(1);
+        check.is("parked at 30, the stay and 2", k.judge(0), KerbHours.OVERSTAYED);
+    }
+
+    /** Signs and permits that begin or end with the next quarter do not count at this one. */
+    private static void judgedByItsQuarter(Check check) {
+        KerbHours k = new KerbHours();
+        k.car(3, KerbHours.RESIDENT);
+        k.park(0, 0, 0);
+        k.sign(0, 0, 2, 1 << KerbHours.RESIDENT, 0, false, false);
+        k.times(127, 95, 96);
+        k.sign(0, 0, 1, ALL, 0, true, false);
+        k.permit(0, 0, 0, 0, 0);
+        k.pass(94);
+        check.is("the last quarter ahead of the second sign", k.judge(0), KerbHours.FINE);
+        k.pass(1);
+        check.is("the last quarter of the permit", k.judge(0), KerbHours.UNPAID);
+        check.is("look", k.look(0), 1);
+        k.pass(1);
+        check.is("the day behind the permit", k.judge(0), KerbHours.FORBIDDEN);
+        k.pay(0, 0, 96, 5);
+        check.is("a payment from the next quarter on", k.appeal(0), false);
     }
 
     private static void look(Check check) {
