@@ -1,242 +1,318 @@
-/** Promises 9 to 15: cars, permits and gaps. */
+/** What the terms say of cars, permits, places and gaps. */
 public final class CarsTest {
+    static final Sentence[] SENTENCES = {
+        Sentence.term("Cars are numbered from 0, at most 30;", CarsTest::carsAreThirty),
+        Sentence.term("a car has a length, 3 to 12 metres,", CarsTest::lengths),
+        Sentence.term("and is of a user: RESIDENT, CARER, LORRY, TAXI or VISITOR.", CarsTest::users),
+        Sentence.term("A RESIDENT counts as a VISITOR at a quarter,", CarsTest::residentAlone),
+        Sentence.term("if no permit of the car", CarsTest::permitOfTheCar),
+        Sentence.term("for that street", CarsTest::permitForThatStreet),
+        Sentence.term("holds on its day.", CarsTest::permitOnItsDay),
+        Sentence.term("A permit is of a car, a street and a home, 0 to 9,", CarsTest::homes),
+        Sentence.term("from a day to another one, both with it;", CarsTest::bothDaysWithIt),
+        Sentence.term("it may be told for days gone by.", CarsTest::forDaysGoneBy),
+        Sentence.term("A home may have two on each day at most,", CarsTest::homeHasTwo),
+        Sentence.term("A home may have two on each day at most,", CarsTest::homeHasTwoOnEachOfItsDays),
+        Sentence.term("of whatever street.", CarsTest::ofWhateverStreet),
+        Sentence.term("A car parks at a metre of a street, and takes so many from there on as it is long;",
+                CarsTest::takesItsLength),
+        Sentence.term("no metre may be taken by two,", CarsTest::noMetreByTwo),
+        Sentence.term("and one at least has to be free between two cars.", CarsTest::oneMetreBetween),
+        Sentence.term("To be on a blocked one is possible, but not allowed.", CarsTest::onABlockedOne),
+        Sentence.term("It stands from that quarter on, till it leaves,", CarsTest::standsTillItLeaves),
+        Sentence.term("and has stood as many quarters as passed since.", CarsTest::hasStood),
+        Sentence.term("A gap for a length is where it can park,", CarsTest::gapIsWhereItCanPark),
+        Sentence.term("blocked or not.", CarsTest::gapBlockedOrNot),
+    };
+
     public static void main(String[] args) {
-        Check check = new Check("CarsTest");
-        car(check);
-        permitRefused(check);
-        homeHasTwo(check);
-        homeHasTwoFromTheFirstOn(check);
-        permitsAreForty(check);
-        countsAs(check);
-        hand(check);
-        park(check);
-        parkRefused(check);
-        leave(check);
-        gap(check);
-        check.end();
+        Sentence.runAll("CarsTest", SENTENCES);
     }
 
-    private static void car(Check check) {
+    private static void carsAreThirty(Check check) {
         KerbHours k = new KerbHours();
-        int[][] wrong = {{2, 0}, {13, 0}, {3, -1}, {3, 5}, {-5, 0}, {Integer.MAX_VALUE, 0}, {3, Integer.MIN_VALUE}};
-        for (int[] w : wrong) {
-            check.refusesArgument("car(" + w[0] + ", " + w[1] + ")", () -> k.car(w[0], w[1]));
+        for (int i = 0; i < 30; i++) {
+            check.is("car " + i, k.car(3 + i % 10, i % 5), i);
         }
-        check.is("car(3, RESIDENT)", k.car(3, KerbHours.RESIDENT), 0);
-        check.is("car(12, VISITOR)", k.car(12, KerbHours.VISITOR), 1);
-        for (int i = 2; i < 30; i++) {
-            check.is("car " + i, k.car(5, KerbHours.TAXI), i);
-        }
-        check.refusesState("car 30", () -> k.car(5, 1));
-        check.refusesArgument("car 30 of length 2", () -> k.car(2, 1));
-        check.is("judge(29)", k.judge(29), KerbHours.NONE);
-        check.refusesIndex("judge(30)", () -> k.judge(30));
+        check.refusesState("car 30", () -> k.car(3, 0));
+        check.is("the last one", k.judge(29), Moves.NONE);
+        check.refusesIndex("none behind it", () -> k.judge(30));
     }
 
-    private static void permitRefused(Check check) {
+    private static void lengths(Check check) {
         KerbHours k = new KerbHours();
-        k.car(3, 0);
-        int[][] index = {{-1, 0, 0}, {1, 0, 0}, {0, -1, 0}, {0, 4, 0}, {0, 0, -1}, {0, 0, 10}};
-        for (int[] w : index) {
-            String call = "permit(" + w[0] + ", " + w[1] + ", " + w[2] + ")";
-            check.refusesIndex(call, () -> k.permit(w[0], w[1], w[2], 0, 0));
-            check.refusesIndex(call + " from 5 to 4", () -> k.permit(w[0], w[1], w[2], 5, 4));
+        check.refusesArgument("2 metres", () -> k.car(2, 0));
+        check.refusesArgument("13 metres", () -> k.car(13, 0));
+        for (int length = 3; length <= 12; length++) {
+            int car = k.car(length, Moves.VISITOR);
+            k.park(car, 0, 0);
+            check.is(length + " metres", k.streetIs(0, 1), length);
+            k.leave(car);
         }
-        int[][] days = {{-1, 0}, {521, 521}, {5, 4}, {0, 521}, {0, Integer.MAX_VALUE}};
-        for (int[] w : days) {
-            check.refusesArgument("permit from " + w[0] + " to " + w[1], () -> k.permit(0, 0, 0, w[0], w[1]));
+    }
+
+    private static void users(Check check) {
+        KerbHours k = new KerbHours();
+        check.refusesArgument("user -1", () -> k.car(3, -1));
+        check.refusesArgument("user 5", () -> k.car(3, 5));
+        for (int user = 0; user < 5; user++) {
+            check.is("user " + user, k.car(3, user), user);
+            k.permit(user, 0, user, 0, 0);
+            check.is("user " + user + " with a permit", k.countsAs(user, 0), user);
         }
-        check.is("the first that is not refused", k.permit(0, 0, 0, 0, 520), 0);
-        check.is("the second", k.permit(0, 3, 9, 520, 520), 1);
+    }
+
+    private static void residentAlone(Check check) {
+        KerbHours k = new KerbHours();
+        int[] without = {Moves.VISITOR, 1, 2, 3, 4};
+        for (int user = 0; user < 5; user++) {
+            k.car(3, user);
+            check.is("user " + user + " without a permit", k.countsAs(user, 0), without[user]);
+        }
+    }
+
+    private static void permitOfTheCar(Check check) {
+        KerbHours k = new KerbHours();
+        k.car(3, Moves.RESIDENT);
+        k.car(3, Moves.RESIDENT);
+        k.car(3, Moves.RESIDENT);
+        k.permit(1, 0, 0, 0, 0);
+        check.is("the car ahead of it", k.countsAs(0, 0), Moves.VISITOR);
+        check.is("its car", k.countsAs(1, 0), Moves.RESIDENT);
+        check.is("the car behind it", k.countsAs(2, 0), Moves.VISITOR);
+    }
+
+    private static void permitForThatStreet(Check check) {
+        for (int street = 0; street < 4; street++) {
+            KerbHours k = new KerbHours();
+            k.car(3, Moves.RESIDENT);
+            k.permit(0, street, 0, 0, 0);
+            for (int other = 0; other < 4; other++) {
+                check.is("street " + other + " by " + street, k.countsAs(0, other), other == street ? 0 : Moves.VISITOR);
+            }
+        }
+    }
+
+    private static void permitOnItsDay(Check check) {
+        KerbHours k = new KerbHours();
+        Moves.parked(k, 3, Moves.RESIDENT, 0, 0);
+        Moves.letting(k, 1 << Moves.RESIDENT, 0, 0, 59);
+        k.permit(0, 0, 0, 1, 2);
+        k.pass(95);
+        check.is("the quarter ahead", k.judge(0), KerbHours.FORBIDDEN);
+        k.pass(1);
+        check.is("the first quarter", k.judge(0), KerbHours.FINE);
+        k.pass(96);
+        k.pass(95);
+        check.is("the last quarter", k.judge(0), KerbHours.FINE);
+        k.pass(1);
+        check.is("the quarter behind", k.judge(0), KerbHours.FORBIDDEN);
+        check.is("countsAs", k.countsAs(0, 0), Moves.VISITOR);
+    }
+
+    private static void homes(Check check) {
+        KerbHours k = new KerbHours();
+        k.car(3, Moves.RESIDENT);
+        check.refusesIndex("home -1", () -> k.permit(0, 0, -1, 0, 0));
+        check.refusesIndex("home 10", () -> k.permit(0, 0, 10, 0, 0));
+        check.is("home 0", k.permit(0, 0, 0, 0, 0), 0);
+        check.is("home 9", k.permit(0, 0, 9, 0, 0), 1);
+    }
+
+    private static void bothDaysWithIt(Check check) {
+        KerbHours k = new KerbHours();
+        k.car(3, Moves.RESIDENT);
+        k.permit(0, 0, 0, 2, 4);
+        for (int day = 0; day < 7; day++) {
+            check.is("day " + day, k.countsAs(0, 0), day >= 2 && day <= 4 ? Moves.RESIDENT : Moves.VISITOR);
+            k.pass(96);
+        }
+        k.permit(0, 0, 0, 7, 7);
+        check.is("a permit of one day", k.countsAs(0, 0), Moves.RESIDENT);
+        k.pass(96);
+        check.is("the day behind it", k.countsAs(0, 0), Moves.VISITOR);
+    }
+
+    private static void forDaysGoneBy(Check check) {
+        KerbHours k = new KerbHours();
+        Moves.parked(k, 3, Moves.RESIDENT, 0, 0);
+        Moves.letting(k, 1 << Moves.RESIDENT, 0, 0, 59);
+        k.look(0);
+        Moves.passDays(k, 5);
+        check.is("a permit of day 0, told on day 5", k.permit(0, 0, 0, 0, 0), 0);
+        check.is("it holds on that day", k.appeal(0), true);
+        check.is("it does not hold now", k.countsAs(0, 0), Moves.VISITOR);
+        check.is("up to yesterday", k.permit(0, 0, 0, 0, 4), 1);
+        check.is("up to yesterday, now", k.countsAs(0, 0), Moves.VISITOR);
+        check.refusesState("a third of the day gone by", () -> k.permit(0, 0, 0, 0, 0));
     }
 
     private static void homeHasTwo(Check check) {
         KerbHours k = new KerbHours();
-        k.car(3, 0);
-        k.car(3, 0);
-        check.is("permit of days 10 to 20", k.permit(0, 0, 4, 10, 20), 0);
-        check.is("permit of days 15 to 30", k.permit(1, 1, 4, 15, 30), 1);
-        check.refusesState("a third from 20 on", () -> k.permit(0, 2, 4, 20, 40));
-        check.refusesState("a third to 15", () -> k.permit(0, 2, 4, 0, 15));
-        check.refusesState("a third round both", () -> k.permit(0, 2, 4, 0, 520));
-        check.refusesState("a third inside both", () -> k.permit(0, 2, 4, 17, 18));
-        check.refusesState("the same again", () -> k.permit(0, 0, 4, 10, 20));
-        check.refusesArgument("days go ahead of the home", () -> k.permit(0, 2, 4, 18, 17));
-        check.is("of another home", k.permit(0, 2, 5, 0, 520), 2);
-        check.is("two from 21 on", k.permit(0, 2, 4, 21, 40), 3);
-        check.is("two to 14", k.permit(0, 2, 4, 0, 14), 4);
-        check.refusesState("a third on 14", () -> k.permit(0, 3, 4, 14, 14));
-        check.is("a second on 9", k.permit(0, 3, 4, 9, 9), 5);
-        check.refusesState("a third on 9", () -> k.permit(0, 3, 4, 9, 9));
-        check.is("hand changes no home", k.hand(0, 1), 0);
-        check.refusesState("a third, handed", () -> k.permit(0, 2, 4, 17, 18));
+        k.car(3, Moves.RESIDENT);
+        check.is("the first", k.permit(0, 0, 4, 7, 7), 0);
+        check.is("the second", k.permit(0, 0, 4, 7, 7), 1);
+        check.refusesState("a third", () -> k.permit(0, 0, 4, 7, 7));
+        check.is("of another home", k.permit(0, 0, 5, 7, 7), 2);
+        check.is("on the day ahead", k.permit(0, 0, 4, 6, 6), 3);
+        check.is("on the day behind", k.permit(0, 0, 4, 8, 8), 4);
     }
 
-    private static void homeHasTwoFromTheFirstOn(Check check) {
-        KerbHours k = new KerbHours();
-        k.car(3, 0);
-        k.permit(0, 0, 7, 15, 30);
-        k.permit(0, 0, 7, 10, 20);
-        check.refusesState("a third over the begin of the first", () -> k.permit(0, 0, 7, 5, 16));
-        check.is("a second up to it", k.permit(0, 0, 7, 5, 14), 2);
-        check.refusesState("a third on 14", () -> k.permit(0, 0, 7, 14, 14));
-    }
-
-    private static void permitsAreForty(Check check) {
-        KerbHours k = new KerbHours();
-        k.car(3, 0);
-        for (int i = 0; i < 40; i++) {
-            check.is("permit " + i, k.permit(0, 0, i / 4, i % 4 * 10, i % 4 * 10 + 9), i);
+    /** Days 10 to 20 and 15 to 30 are told: 15 to 20 have two, the others one at most. */
+    private static void homeHasTwoOnEachOfItsDays(Check check) {
+        int[][] refused = {{20, 40}, {0, 15}, {0, 520}, {17, 18}, {15, 15}, {20, 20}, {10, 20}, {15, 30}};
+        int[][] given = {{21, 40}, {0, 14}, {31, 520}, {0, 9}, {14, 14}, {21, 21}};
+        for (boolean isLaterFirst : new boolean[] {false, true}) {
+            for (int[] days : refused) {
+                KerbHours k = homeOfTwoPermits(isLaterFirst);
+                String call = "a third from " + days[0] + " to " + days[1];
+                check.refusesState(call, () -> k.permit(0, 0, 4, days[0], days[1]));
+            }
+            for (int[] days : given) {
+                KerbHours k = homeOfTwoPermits(isLaterFirst);
+                check.is("a second from " + days[0] + " to " + days[1], k.permit(0, 0, 4, days[0], days[1]), 2);
+            }
         }
-        check.refusesState("permit 40", () -> k.permit(0, 0, 0, 500, 500));
-        check.refusesArgument("permit 40 to 521", () -> k.permit(0, 0, 0, 500, 521));
-        check.refusesIndex("permit 40 of home 10", () -> k.permit(0, 0, 10, 500, 521));
-        check.is("hand(39)", k.hand(39, 0), 0);
-        check.refusesIndex("hand(40)", () -> k.hand(40, 0));
     }
 
-    private static void countsAs(Check check) {
+    private static KerbHours homeOfTwoPermits(boolean isLaterFirst) {
         KerbHours k = new KerbHours();
-        for (int user = 0; user < 5; user++) {
-            k.car(3, user);
+        k.car(3, Moves.RESIDENT);
+        if (isLaterFirst) {
+            k.permit(0, 0, 4, 15, 30);
         }
-        check.is("RESIDENT without a permit", k.countsAs(0, 0), KerbHours.VISITOR);
-        for (int user = 1; user < 5; user++) {
-            check.is("user " + user, k.countsAs(user, 0), user);
-            k.permit(user, 0, user, 0, 520);
-            check.is("user " + user + " with a permit", k.countsAs(user, 0), user);
+        k.permit(0, 0, 4, 10, 20);
+        if (!isLaterFirst) {
+            k.permit(0, 0, 4, 15, 30);
         }
-        int second = k.car(3, KerbHours.RESIDENT);
-        k.permit(second, 1, 9, 0, 0);
-        check.is("the car of the permit", k.countsAs(second, 1), KerbHours.RESIDENT);
-        check.is("the first car, by the permit of another", k.countsAs(0, 1), KerbHours.VISITOR);
-        k.permit(0, 2, 0, 1, 2);
-        check.is("ahead of its days", k.countsAs(0, 2), KerbHours.VISITOR);
-        k.pass(95);
-        check.is("on the last quarter ahead", k.countsAs(0, 2), KerbHours.VISITOR);
-        k.pass(1);
-        check.is("on its first day", k.countsAs(0, 2), KerbHours.RESIDENT);
-        check.is("of another street", k.countsAs(0, 1), KerbHours.VISITOR);
-        k.pass(96);
-        k.pass(95);
-        check.is("on its last quarter", k.countsAs(0, 2), KerbHours.RESIDENT);
-        k.pass(1);
-        check.is("behind its days", k.countsAs(0, 2), KerbHours.VISITOR);
-        check.refusesIndex("countsAs(-1, 0)", () -> k.countsAs(-1, 0));
-        check.refusesIndex("countsAs(6, 0)", () -> k.countsAs(6, 0));
-        check.refusesIndex("countsAs(0, -1)", () -> k.countsAs(0, -1));
-        check.refusesIndex("countsAs(0, 4)", () -> k.countsAs(0, 4));
+        return k;
     }
 
-    private static void hand(Check check) {
+    private static void ofWhateverStreet(Check check) {
         KerbHours k = new KerbHours();
-        k.car(3, 0);
-        k.car(3, 0);
-        k.car(3, 3);
-        k.permit(0, 1, 0, 0, 5);
-        check.refusesIndex("hand(-1, 0)", () -> k.hand(-1, 0));
-        check.refusesIndex("hand(1, 0)", () -> k.hand(1, 0));
-        check.refusesIndex("hand(0, -1)", () -> k.hand(0, -1));
-        check.refusesIndex("hand(0, 3)", () -> k.hand(0, 3));
-        check.is("refused, it stays", k.countsAs(0, 1), KerbHours.RESIDENT);
-        check.is("hand(0, 1)", k.hand(0, 1), 0);
-        check.is("who had it", k.countsAs(0, 1), KerbHours.VISITOR);
-        check.is("who has it", k.countsAs(1, 1), KerbHours.RESIDENT);
-        check.is("to the same", k.hand(0, 1), 1);
-        check.is("to a taxi", k.hand(0, 2), 1);
-        check.is("a taxi is a taxi", k.countsAs(2, 1), KerbHours.TAXI);
-        check.is("back", k.hand(0, 0), 2);
-        check.is("who has it again", k.countsAs(0, 1), KerbHours.RESIDENT);
+        k.car(3, Moves.RESIDENT);
+        k.car(3, KerbHours.TAXI);
+        k.permit(0, 0, 4, 7, 7);
+        k.permit(1, 1, 4, 7, 7);
+        check.refusesState("a third, of a third street", () -> k.permit(0, 2, 4, 7, 7));
+        check.refusesState("a third, of the first street", () -> k.permit(1, 0, 4, 7, 7));
     }
 
-    private static void park(Check check) {
-        KerbHours k = new KerbHours();
-        k.car(5, 4);
-        k.car(4, 4);
-        k.car(12, 4);
-        k.park(0, 0, 20);
-        check.is("taken", k.streetIs(0, 1), 5);
-        check.refusesState("on it", () -> k.park(1, 0, 22));
-        check.refusesState("right behind it", () -> k.park(1, 0, 25));
-        check.refusesState("right ahead of it", () -> k.park(1, 0, 16));
-        check.refusesState("round it", () -> k.park(2, 0, 15));
-        k.park(1, 0, 26);
-        check.is("taken by two", k.streetIs(0, 1), 9);
-        k.leave(1);
-        k.park(1, 0, 15);
-        check.is("taken by two again", k.streetIs(0, 1), 9);
-        k.leave(1);
-        k.park(1, 1, 22);
-        check.is("the same metres of another street", k.streetIs(1, 1), 4);
-        k.block(2, 5, true);
-        k.park(2, 2, 0);
-        check.is("a blocked metre is no wall", k.judge(2), KerbHours.BLOCKED);
-    }
-
-    private static void parkRefused(Check check) {
-        KerbHours k = new KerbHours();
-        k.car(3, 4);
-        k.car(12, 4);
-        int[][] index = {{-1, 0, 0}, {2, 0, 0}, {0, -1, 0}, {0, 4, 0}, {0, 0, -1}, {0, 0, 60}};
-        for (int[] w : index) {
-            check.refusesIndex("park(" + w[0] + ", " + w[1] + ", " + w[2] + ")", () -> k.park(w[0], w[1], w[2]));
+    private static void takesItsLength(Check check) {
+        for (int length = 3; length <= 12; length++) {
+            KerbHours k = new KerbHours();
+            Moves.parked(k, length, Moves.VISITOR, 2, 20);
+            check.is("taken by " + length, k.streetIs(2, 1), length);
+            check.is("taken of another street", k.streetIs(1, 1), 0);
+            for (int metre = 19; metre <= 32; metre++) {
+                k.block(2, metre, true);
+                boolean isTaken = metre >= 20 && metre < 20 + length;
+                check.is("metre " + metre + " by " + length, k.judge(0), isTaken ? KerbHours.BLOCKED : KerbHours.FINE);
+                k.block(2, metre, false);
+            }
         }
-        check.refusesState("3 metres at 58", () -> k.park(0, 0, 58));
-        check.refusesState("12 metres at 49", () -> k.park(1, 0, 49));
-        check.is("refused, it does not stand", k.judge(0), KerbHours.NONE);
-        k.park(0, 0, 57);
-        k.park(1, 1, 48);
-        check.refusesState("it stands already", () -> k.park(0, 0, 0));
-        check.refusesState("it stands already, elsewhere", () -> k.park(0, 2, 0));
-        check.refusesIndex("no metre, though it stands", () -> k.park(0, 0, 60));
-        check.is("taken of 0", k.streetIs(0, 1), 3);
-        check.is("taken of 1", k.streetIs(1, 1), 12);
-        check.is("taken of 2", k.streetIs(2, 1), 0);
     }
 
-    private static void leave(Check check) {
+    private static void noMetreByTwo(Check check) {
         KerbHours k = new KerbHours();
-        k.car(7, 4);
-        check.refusesState("it never stood", () -> k.leave(0));
-        check.refusesIndex("leave(-1)", () -> k.leave(-1));
-        check.refusesIndex("leave(1)", () -> k.leave(1));
+        Moves.parked(k, 5, Moves.VISITOR, 0, 20);
+        k.car(12, Moves.VISITOR);
+        k.car(3, Moves.VISITOR);
+        check.refusesState("on its metres", () -> k.park(2, 0, 21));
+        check.refusesState("at its first metre", () -> k.park(2, 0, 20));
+        check.refusesState("at its last metre", () -> k.park(2, 0, 24));
+        check.refusesState("up to its first metre", () -> k.park(2, 0, 18));
+        check.refusesState("round it", () -> k.park(1, 0, 15));
+        check.accepts("the same metres of another street", () -> k.park(2, 1, 21));
+        k.leave(0);
+        check.accepts("its metres, when it has left", () -> k.park(1, 0, 15));
+    }
+
+    private static void oneMetreBetween(Check check) {
+        for (int length = 3; length <= 12; length++) {
+            KerbHours k = new KerbHours();
+            Moves.parked(k, 5, Moves.VISITOR, 0, 20);
+            int car = k.car(length, Moves.VISITOR);
+            int ahead = 20 - length;
+            check.refusesState("none between, behind it", () -> k.park(car, 0, 25));
+            check.accepts("one between, behind it", () -> k.park(car, 0, 26));
+            k.leave(car);
+            check.refusesState("none between, ahead of it", () -> k.park(car, 0, ahead));
+            check.accepts("one between, ahead of it", () -> k.park(car, 0, ahead - 1));
+            check.is("taken by both", k.streetIs(0, 1), 5 + length);
+        }
+    }
+
+    private static void onABlockedOne(Check check) {
+        KerbHours k = new KerbHours();
+        k.block(0, 5, true);
+        k.car(3, Moves.VISITOR);
+        check.accepts("park on it", () -> k.park(0, 0, 3));
+        check.is("judge", k.judge(0), KerbHours.BLOCKED);
+        check.is("taken", k.streetIs(0, 1), 3);
+        check.is("look", k.look(0), 1);
+    }
+
+    private static void standsTillItLeaves(Check check) {
+        KerbHours k = new KerbHours();
+        k.car(3, Moves.VISITOR);
+        check.is("ahead of it", k.judge(0), Moves.NONE);
+        k.park(0, 0, 0);
+        check.is("at once", k.judge(0), KerbHours.FINE);
+        Moves.passDays(k, 10);
+        check.is("for ten days", k.judge(0), KerbHours.FINE);
+        check.is("its metres for ten days", k.streetIs(0, 1), 3);
+        k.leave(0);
+        check.is("behind it", k.judge(0), Moves.NONE);
+        check.is("its metres behind it", k.streetIs(0, 1), 0);
+    }
+
+    private static void hasStood(Check check) {
+        KerbHours k = new KerbHours();
+        Moves.withStay(k, 4, 0, 0, 59);
+        k.car(3, Moves.VISITOR);
+        k.pass(30);
+        k.park(0, 0, 0);
         k.pass(5);
-        k.park(0, 3, 53);
+        check.is("5 quarters by 4", k.judge(0), KerbHours.FINE);
+        k.pass(1);
+        check.is("6 quarters by 4", k.judge(0), KerbHours.OVERSTAYED);
+        check.is("leave", k.leave(0), 6);
+        k.park(0, 0, 0);
+        check.is("parked anew", k.judge(0), KerbHours.FINE);
         check.is("left at once", k.leave(0), 0);
-        check.refusesState("it has left", () -> k.leave(0));
-        check.is("nothing taken", k.streetIs(3, 1), 0);
-        k.park(0, 3, 53);
-        k.pass(96);
-        k.pass(20);
-        check.is("left later", k.leave(0), 116);
-        check.is("judge of one that left", k.judge(0), KerbHours.NONE);
-        check.is("its place is free", k.gap(3, 12), 0);
+        k.park(0, 0, 0);
+        k.pass(1);
+        check.is("left behind 1", k.leave(0), 1);
     }
 
-    private static void gap(Check check) {
+    /** Between the cars there are 6, 8, 7 and 13 metres, those that have to stay free not with them. */
+    private static void gapIsWhereItCanPark(Check check) {
+        for (int length = 3; length <= 12; length++) {
+            KerbHours k = new KerbHours();
+            Moves.parked(k, 4, Moves.VISITOR, 0, 7);
+            Moves.parked(k, 4, Moves.VISITOR, 0, 21);
+            Moves.parked(k, 12, Moves.VISITOR, 0, 34);
+            int car = k.car(length, Moves.VISITOR);
+            int gap = k.gap(0, length);
+            int due = length <= 6 ? 0 : length <= 8 ? 12 : 47;
+            check.is("gap of " + length, gap, due);
+            for (int metre = 0; metre < gap; metre++) {
+                int lower = metre;
+                check.refusesState("park at " + metre + ", below the gap", () -> k.park(car, 0, lower));
+            }
+            check.accepts("park in the gap", () -> k.park(car, 0, gap));
+        }
+    }
+
+    private static void gapBlockedOrNot(Check check) {
         KerbHours k = new KerbHours();
-        for (int i = 0; i < 5; i++) {
-            k.car(i == 4 ? 3 : 12, 4);
+        k.car(3, Moves.VISITOR);
+        for (int metre = 0; metre < 60; metre++) {
+            k.block(0, metre, true);
         }
-        k.block(0, 0, true);
-        check.is("gap(0, 3), blocked or not", k.gap(0, 3), 0);
-        k.park(0, 0, 4);
-        check.is("gap ahead of one", k.gap(0, 3), 0);
-        check.is("gap too short by one", k.gap(0, 4), 17);
-        k.park(1, 0, 17);
-        k.park(2, 0, 30);
-        check.is("gap behind three", k.gap(0, 12), 43);
-        k.park(3, 0, 44);
-        check.is("only the first place", k.gap(0, 3), 0);
-        check.is("4 metres, none", k.gap(0, 4), KerbHours.NONE);
-        k.park(4, 0, 0);
-        check.is("3 metres, up to the end", k.gap(0, 3), 57);
-        check.is("another street", k.gap(1, 12), 0);
-        check.refusesIndex("gap(-1, 3)", () -> k.gap(-1, 3));
-        check.refusesIndex("gap(4, 3)", () -> k.gap(4, 3));
-        check.refusesIndex("gap(4, 2)", () -> k.gap(4, 2));
-        for (int length : new int[] {2, 13, -1, Integer.MAX_VALUE, Integer.MIN_VALUE}) {
-            check.refusesArgument("gap of " + length, () -> k.gap(0, length));
-        }
+        check.is("all is blocked", k.gap(0, 12), 0);
+        k.park(0, 0, 0);
+        check.is("all is blocked, and three are taken", k.gap(0, 12), 4);
     }
 }

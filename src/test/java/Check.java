@@ -1,11 +1,27 @@
 /** Counts the answers of one test, prints the wrong ones, and ends the program with 1 if there was one. */
 final class Check {
     private final String name;
+    private String under = "";
+    private int answersUnder = 0;
     private int right = 0;
     private int wrong = 0;
 
     Check(String name) {
         this.name = name;
+    }
+
+    /** What follows belongs to this sentence of the document, until the next one begins. */
+    void begin(String sentence) {
+        under = sentence;
+        answersUnder = 0;
+    }
+
+    /** A sentence without an answer would be no test. */
+    void endSentence() {
+        if (answersUnder == 0) {
+            note(false, "no answer was looked at");
+        }
+        under = "";
     }
 
     void is(String call, long got, long due) {
@@ -18,6 +34,15 @@ final class Check {
 
     void holds(String what, boolean is) {
         note(is, what);
+    }
+
+    void accepts(String call, Runnable body) {
+        try {
+            body.run();
+            note(true, call);
+        } catch (RuntimeException e) {
+            note(false, call + " throws " + e);
+        }
     }
 
     /** The exception has to be thrown by the class itself: one that the machine or a list throws does not count. */
@@ -54,11 +79,12 @@ final class Check {
     }
 
     private void note(boolean isRight, String text) {
+        answersUnder++;
         if (isRight) {
             right++;
         } else {
             wrong++;
-            System.out.println(name + ": " + text);
+            System.out.println(name + ": " + (under.isEmpty() ? "" : "[" + under + "] ") + text);
         }
     }
 

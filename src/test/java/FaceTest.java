@@ -6,27 +6,34 @@ import java.util.TreeMap;
 
 /** The public face is that of the document, to the letter, and promise 1. */
 public final class FaceTest {
+    static final Sentence[] SENTENCES = {
+        Sentence.term("`NONE = -1`: There is none.", c -> c.is("NONE", KerbHours.NONE, -1)),
+        Sentence.term("`RESIDENT = 0, CARER = 1, LORRY = 2, TAXI = 3, VISITOR = 4`: Users.", FaceTest::users),
+        Sentence.term("`FINE = 0, BLOCKED = 1, FORBIDDEN = 2, OVERSTAYED = 3, UNPAID = 4`: Judgements.",
+                FaceTest::judgements),
+        new Sentence("The public face", "public final class KerbHours {", FaceTest::members),
+        new Sentence("The public face", "public boolean block(int street, int metre, boolean is)", FaceTest::methods),
+        Sentence.promise(1, "No signs and cars.", FaceTest::newObject),
+        Sentence.promise(1, "`KerbHours()`", FaceTest::objectsAreApart),
+    };
+
     private static final String INDEX = "IndexOutOfBoundsException ";
     private static final String ARGUMENT = "IllegalArgumentException ";
     private static final String STATE = "IllegalStateException ";
 
     public static void main(String[] args) {
-        Check check = new Check("FaceTest");
-        constants(check);
-        members(check);
-        methods(check);
-        newObject(check);
-        objectsAreApart(check);
-        check.end();
+        Sentence.runAll("FaceTest", SENTENCES);
     }
 
-    private static void constants(Check check) {
-        check.is("NONE", KerbHours.NONE, -1);
+    private static void users(Check check) {
         check.is("RESIDENT", KerbHours.RESIDENT, 0);
         check.is("CARER", KerbHours.CARER, 1);
         check.is("LORRY", KerbHours.LORRY, 2);
         check.is("TAXI", KerbHours.TAXI, 3);
         check.is("VISITOR", KerbHours.VISITOR, 4);
+    }
+
+    private static void judgements(Check check) {
         check.is("FINE", KerbHours.FINE, 0);
         check.is("BLOCKED", KerbHours.BLOCKED, 1);
         check.is("FORBIDDEN", KerbHours.FORBIDDEN, 2);

@@ -1,512 +1,787 @@
-/** Promises 16 to 23: payments, looks, fines. */
+/** What the terms say of payments, judgements, looks, fines, appeals, debts and towing. */
 public final class FinesTest {
-    private static final int ALL = 31, NOBODY = 0;
-    private static final int V = KerbHours.VISITOR;
+    private static final String OVERSTAYED_IF =
+            "otherwise OVERSTAYED, if it has stood more quarters than the stay, and 1, of the sign that counts at its first metre,";
+
+    static final Sentence[] SENTENCES = {
+        Sentence.term("A payment is of a car", FinesTest::paymentOfACar),
+        Sentence.term("and a street,", FinesTest::paymentOfAStreet),
+        Sentence.term("from a quarter on,", FinesTest::paymentFromAQuarterOn),
+        Sentence.term("96 quarters ago at most,", FinesTest::paymentToldLate),
+        Sentence.term("and not behind now,", FinesTest::paymentNotBehindNow),
+        Sentence.term("for so many;", FinesTest::paymentForSoMany),
+        Sentence.term("it costs their number times the price of the street by now,", FinesTest::costs),
+        Sentence.term("4 at first.", FinesTest::priceIsFourAtFirst),
+        Sentence.term("BLOCKED, if one of its metres is blocked;", FinesTest::blockedAtOneMetre),
+        Sentence.term("BLOCKED, if one of its metres is blocked;", FinesTest::blockedGoesAheadOfAll),
+        Sentence.term("otherwise FORBIDDEN, if the sign that counts at one of its metres", FinesTest::forbiddenAtOneMetre),
+        Sentence.term("otherwise FORBIDDEN,", FinesTest::forbiddenGoesAhead),
+        Sentence.term("does not let its user stand,", FinesTest::forbiddenByTheSignThatCounts),
+        Sentence.term("as it counts then;", FinesTest::forbiddenAsItCountsThen),
+        Sentence.term(OVERSTAYED_IF, FinesTest::overstayedByMoreThanTheStayAndOne),
+        Sentence.term(OVERSTAYED_IF, FinesTest::overstayedAtTheFirstMetre),
+        Sentence.term("otherwise OVERSTAYED,", FinesTest::overstayedGoesAhead),
+        Sentence.term("if that has one;", FinesTest::overstayedIfThereIsAStay),
+        Sentence.term("otherwise UNPAID, if that sign has a fee,", FinesTest::unpaidAtTheFirstMetre),
+        Sentence.term("the car has stood more than 1 quarter,", FinesTest::unpaidBehindOneQuarter),
+        Sentence.term("and no payment for the street covers this one;", FinesTest::unpaidIfNoneCovers),
+        Sentence.term("otherwise FINE.", FinesTest::otherwiseFine),
+        Sentence.term("A look at a street judges all cars that stand there,", FinesTest::lookAtAllThatStandThere),
+        Sentence.term("by their numbers.", FinesTest::lookByTheirNumbers),
+        Sentence.term("One that is not FINE gets a fine,", FinesTest::notFineGetsAFine),
+        Sentence.term("numbered from 0,", FinesTest::finesAreNumbered),
+        Sentence.term("at most 60, more are not given;", FinesTest::finesAreSixty),
+        Sentence.term("but one that has a fine, given on this day", FinesTest::oneFineOnADay),
+        Sentence.term("since it parked there,", FinesTest::sinceItParkedThere),
+        Sentence.term("taken back or not, does not.", FinesTest::takenBackOrNot),
+        Sentence.term("Fines are of 100, 60, 30 and 40, as BLOCKED to UNPAID.", FinesTest::amounts),
+        Sentence.term("By an appeal, once,", FinesTest::appealOnce),
+        Sentence.term("a fine is judged again, for its quarter,", FinesTest::appealForItsQuarter),
+        Sentence.term("a fine is judged again, for its quarter,", FinesTest::appealForItsPlace),
+        Sentence.term("by all signs that hold at that,", FinesTest::appealByAllSigns),
+        Sentence.term("by permits", FinesTest::appealByPermits),
+        Sentence.term("and payments told by now,", FinesTest::appealByPayments),
+        Sentence.term("and by blocked metres as they were at the look;", FinesTest::appealByBlockedMetres),
+        Sentence.term("it is taken back, if that is FINE now,", FinesTest::takenBackIfFineNow),
+        Sentence.term("and it was not paid;", FinesTest::notTakenBackIfPaid),
+        Sentence.term("otherwise it stays as it was given.", FinesTest::staysAsItWasGiven),
+        Sentence.term("The debt of a car are its fines that are neither paid nor taken back, together.", FinesTest::debt),
+        Sentence.term("A car that stands, with a debt of 200 or more, can be towed:", FinesTest::canBeTowed),
+        Sentence.term("it stands no more.", FinesTest::towedStandsNoMore),
+    };
 
     public static void main(String[] args) {
-        Check check = new Check("FinesTest");
-        pay(check);
-        payRefused(check);
-        paymentsAreTwoHundred(check);
-        judgedInOrder(check);
-        judgedByUser(check);
-        judgedByStay(check);
-        judgedByFee(check);
-        judgedByPayment(check);
-        judgedOnItsMetresAlone(check);
-        judgedByItsQuarter(check);
-        look(check);
-        oneFineOnADay(check);
-        finesAreSixty(check);
-        appealByPayment(check);
-        appealByPermit(check);
-        appealByBlockedMetres(check);
-        appealBySigns(check);
-        appealRefused(check);
-        payFine(check);
-        tellsOfAFine(check);
-        debtAndTow(check);
-        check.end();
+        Sentence.runAll("FinesTest", SENTENCES);
     }
 
     /** A car of 3 metres, a visitor, that stands at metre 0 of street 0. */
-    private static KerbHours withOne() {
+    static KerbHours withOne() {
         KerbHours k = new KerbHours();
-        k.car(3, V);
-        k.park(0, 0, 0);
+        Moves.parked(k, 3, Moves.VISITOR, 0, 0);
         return k;
     }
 
-    private static void pay(Check check) {
-        KerbHours k = new KerbHours();
-        k.car(3, V);
-        check.is("pay(0, 0, 0, 1)", k.pay(0, 0, 0, 1), 4);
-        check.is("pay(0, 0, 0, 96)", k.pay(0, 0, 0, 96), 384);
-        check.is("pay(0, 3, 0, 2)", k.pay(0, 3, 0, 2), 8);
-        check.is("cost of 0", k.streetIs(0, 2), 388);
-        check.is("cost of 3", k.streetIs(3, 2), 8);
-        check.is("cost of 1", k.streetIs(1, 2), 0);
-        k.pass(96);
-        check.is("by the price of now", k.pay(0, 0, 50, 10), 30);
-        check.is("cost of 0, then", k.streetIs(0, 2), 418);
-    }
-
-    private static void payRefused(Check check) {
-        KerbHours k = new KerbHours();
-        k.car(3, V);
-        check.refusesArgument("from 1 at 0", () -> k.pay(0, 0, 1, 1));
-        check.refusesArgument("from -1 at 0", () -> k.pay(0, 0, -1, 1));
-        k.pass(95);
-        k.pass(5);
-        int[][] index = {{-1, 0}, {1, 0}, {0, -1}, {0, 4}};
-        for (int[] w : index) {
-            String call = "pay(" + w[0] + ", " + w[1] + ")";
-            check.refusesIndex(call, () -> k.pay(w[0], w[1], 100, 1));
-            check.refusesIndex(call + " for 0", () -> k.pay(w[0], w[1], 101, 0));
-        }
-        for (int from : new int[] {3, 101, Integer.MIN_VALUE, Integer.MAX_VALUE}) {
-            check.refusesArgument("from " + from + " at 100", () -> k.pay(0, 0, from, 1));
-        }
-        for (int quarters : new int[] {0, -1, 97, Integer.MAX_VALUE}) {
-            check.refusesArgument("for " + quarters, () -> k.pay(0, 0, 100, quarters));
-        }
-        check.is("refused, it costs nothing", k.streetIs(0, 2), 0);
-        check.is("from 4 at 100", k.pay(0, 0, 4, 1), 3);
-        check.is("from 100 at 100", k.pay(0, 0, 100, 96), 288);
-    }
-
-    private static void paymentsAreTwoHundred(Check check) {
+    /** The same on a street with a fee. */
+    private static KerbHours withFee() {
         KerbHours k = withOne();
-        k.sign(0, 0, 59, ALL, 0, true, false);
-        for (int i = 0; i < 200; i++) {
-            check.is("payment " + i, k.pay(0, i % 4, 0, 1), 4);
-        }
-        check.refusesState("payment 200", () -> k.pay(0, 0, 0, 96));
-        check.refusesArgument("payment 200 for 0", () -> k.pay(0, 0, 0, 0));
-        check.refusesIndex("payment 200 of car 1", () -> k.pay(1, 0, 0, 0));
-        check.is("cost", k.streetIs(0, 2), 200);
-        k.pass(2);
-        check.is("the refused one covers nothing", k.judge(0), KerbHours.UNPAID);
+        Moves.withFee(k, 0, 0, 59);
+        return k;
     }
 
-    private static void judgedInOrder(Check check) {
+    /** The same on a street on which nobody may stand. */
+    private static KerbHours withForbidden() {
         KerbHours k = withOne();
-        check.refusesIndex("judge(-1)", () -> k.judge(-1));
-        check.refusesIndex("judge(1)", () -> k.judge(1));
-        check.is("without a sign", k.judge(0), KerbHours.FINE);
-        k.sign(0, 0, 59, ALL, 1, true, false);
-        check.is("at once", k.judge(0), KerbHours.FINE);
+        Moves.letting(k, Moves.NOBODY, 0, 0, 59);
+        return k;
+    }
+
+    // ---- payments
+
+    private static void paymentOfACar(Check check) {
+        KerbHours k = withFee();
+        Moves.parked(k, 3, Moves.VISITOR, 0, 10);
         k.pass(2);
-        check.is("2 quarters", k.judge(0), KerbHours.UNPAID);
-        k.pass(1);
-        check.is("3 quarters", k.judge(0), KerbHours.OVERSTAYED);
+        k.pay(1, 0, 0, 96);
+        check.is("the car that paid", k.judge(1), KerbHours.FINE);
+        check.is("another one", k.judge(0), KerbHours.UNPAID);
+        k.pay(0, 0, 2, 1);
+        check.is("another one, paid too", k.judge(0), KerbHours.FINE);
+    }
+
+    private static void paymentOfAStreet(Check check) {
+        KerbHours k = withFee();
+        k.pass(2);
+        for (int street = 1; street < 4; street++) {
+            k.pay(0, street, 0, 96);
+            check.is("paid for street " + street, k.judge(0), KerbHours.UNPAID);
+        }
         k.pay(0, 0, 0, 96);
-        check.is("paid, but 3 quarters", k.judge(0), KerbHours.OVERSTAYED);
-        k.sign(0, 2, 2, NOBODY, 0, false, false);
-        check.is("its last metre", k.judge(0), KerbHours.FORBIDDEN);
-        k.block(0, 2, true);
-        check.is("its last metre, blocked", k.judge(0), KerbHours.BLOCKED);
-        k.block(0, 2, false);
-        k.block(0, 3, true);
-        k.takeDown(1);
-        k.sign(0, 3, 3, NOBODY, 0, false, false);
-        check.is("the metre behind it", k.judge(0), KerbHours.OVERSTAYED);
-        k.block(0, 0, true);
-        check.is("its first metre, blocked", k.judge(0), KerbHours.BLOCKED);
-        k.leave(0);
-        check.is("gone", k.judge(0), KerbHours.NONE);
+        check.is("paid for its street", k.judge(0), KerbHours.FINE);
     }
 
-    private static void judgedByUser(Check check) {
-        for (int user = 0; user < 5; user++) {
-            for (int users = 0; users < 32; users++) {
-                KerbHours k = new KerbHours();
-                k.car(4, user);
-                k.sign(0, 12, 12, users, 0, false, false);
-                k.park(0, 0, 10);
-                int as = user == KerbHours.RESIDENT ? V : user;
-                int due = (users >> as) % 2 == 1 ? KerbHours.FINE : KerbHours.FORBIDDEN;
-                check.is("user " + user + " by " + users, k.judge(0), due);
-                k.permit(0, 0, 0, 0, 0);
-                due = (users >> user) % 2 == 1 ? KerbHours.FINE : KerbHours.FORBIDDEN;
-                check.is("user " + user + " by " + users + " with a permit", k.judge(0), due);
-            }
+    private static void paymentFromAQuarterOn(Check check) {
+        KerbHours k = withFee();
+        k.pass(9);
+        k.look(0);
+        k.pass(1);
+        k.pay(0, 0, 10, 5);
+        check.is("the quarter ahead of it", k.appeal(0), false);
+        check.is("its first quarter", k.judge(0), KerbHours.FINE);
+    }
+
+    private static void paymentToldLate(Check check) {
+        KerbHours k = withFee();
+        k.pass(4);
+        k.look(0);
+        k.pass(96);
+        check.refusesArgument("97 quarters ago", () -> k.pay(0, 0, 3, 2));
+        check.is("96 quarters ago", k.pay(0, 0, 4, 1), 3);
+        check.is("it covers that quarter", k.appeal(0), true);
+    }
+
+    private static void paymentNotBehindNow(Check check) {
+        KerbHours k = withFee();
+        k.pass(4);
+        check.refusesArgument("from the next quarter on", () -> k.pay(0, 0, 5, 1));
+        check.is("from now on", k.pay(0, 0, 4, 1), 4);
+    }
+
+    private static void paymentForSoMany(Check check) {
+        KerbHours k = withFee();
+        k.pass(2);
+        k.pay(0, 0, 2, 1);
+        check.is("its one quarter", k.judge(0), KerbHours.FINE);
+        k.pass(1);
+        check.is("the quarter behind it", k.judge(0), KerbHours.UNPAID);
+        k.pay(0, 0, 3, 96);
+        check.is("the first of 96", k.judge(0), KerbHours.FINE);
+        k.pass(95);
+        check.is("the last of 96", k.judge(0), KerbHours.FINE);
+        k.pass(1);
+        check.is("the one behind 96", k.judge(0), KerbHours.UNPAID);
+    }
+
+    private static void costs(Check check) {
+        KerbHours k = new KerbHours();
+        k.car(3, Moves.VISITOR);
+        check.is("1 by 4", k.pay(0, 0, 0, 1), 4);
+        check.is("96 by 4", k.pay(0, 0, 0, 96), 384);
+        k.pass(95);
+        check.is("7 by 4, on the last quarter of the day", k.pay(0, 0, 95, 7), 28);
+        k.pass(1);
+        check.is("7 by 3, for quarters of the day ahead", k.pay(0, 0, 0, 7), 21);
+        Moves.passDays(k, 3);
+        check.is("96 by 0", k.pay(0, 0, 4 * 96, 96), 0);
+        KerbHours full = new KerbHours();
+        for (int i = 0; i < 4; i++) {
+            Moves.parked(full, 12, Moves.VISITOR, 1, i * 13);
+        }
+        Moves.parked(full, 3, Moves.VISITOR, 1, 52);
+        full.pass(96);
+        check.is("7 by 5", full.pay(0, 1, 96, 7), 35);
+        check.is("7 by 3, of another street", full.pay(0, 0, 96, 7), 21);
+    }
+
+    private static void priceIsFourAtFirst(Check check) {
+        KerbHours k = new KerbHours();
+        k.car(3, Moves.VISITOR);
+        for (int street = 0; street < 4; street++) {
+            check.is("price of " + street, k.streetIs(street, 0), 4);
+            check.is("cost of 1 at " + street, k.pay(0, street, 0, 1), 4);
         }
     }
 
-    private static void judgedByStay(Check check) {
-        KerbHours k = withOne();
-        k.car(3, V);
-        k.park(1, 0, 10);
-        k.car(3, V);
-        k.park(2, 0, 20);
-        k.sign(0, 0, 0, ALL, 2, false, false);
-        k.sign(0, 11, 12, ALL, 2, false, false);
-        k.sign(0, 20, 22, ALL, 96, false, false);
-        k.pass(3);
-        check.is("the stay and 1", k.judge(0), KerbHours.FINE);
-        k.pass(1);
-        check.is("the stay and 2", k.judge(0), KerbHours.OVERSTAYED);
-        check.is("not by its other metres", k.judge(1), KerbHours.FINE);
-        k.pass(93);
-        check.is("97 quarters by 96", k.judge(2), KerbHours.FINE);
-        k.pass(1);
-        check.is("98 quarters by 96", k.judge(2), KerbHours.OVERSTAYED);
-        k.sign(0, 20, 20, ALL, 0, false, false);
-        check.is("98 quarters by any", k.judge(2), KerbHours.FINE);
+    // ---- judgements
+
+    private static void blockedAtOneMetre(Check check) {
+        KerbHours k = new KerbHours();
+        Moves.parked(k, 5, Moves.VISITOR, 1, 20);
+        for (int metre = 0; metre < 60; metre++) {
+            k.block(1, metre, true);
+            boolean isOn = metre >= 20 && metre <= 24;
+            check.is("metre " + metre, k.judge(0), isOn ? KerbHours.BLOCKED : KerbHours.FINE);
+            k.block(1, metre, false);
+        }
+        k.block(0, 22, true);
+        check.is("of another street", k.judge(0), KerbHours.FINE);
+        Moves.parked(k, 12, Moves.VISITOR, 2, 48);
+        k.block(2, 59, true);
+        check.is("the last metre of the street", k.judge(1), KerbHours.BLOCKED);
     }
 
-    private static void judgedByFee(Check check) {
+    private static void blockedGoesAheadOfAll(Check check) {
         KerbHours k = withOne();
-        k.car(3, V);
-        k.park(1, 0, 10);
-        k.sign(0, 0, 0, ALL, 0, true, false);
-        k.sign(0, 11, 12, ALL, 0, true, false);
-        check.is("0 quarters", k.judge(0), KerbHours.FINE);
+        k.sign(0, 0, 59, Moves.NOBODY, 1, true, false);
+        k.block(0, 2, true);
+        k.pass(5);
+        check.is("blocked, forbidden, overstayed and unpaid", k.judge(0), KerbHours.BLOCKED);
+        k.block(0, 2, false);
+        check.is("no longer blocked", k.judge(0), KerbHours.FORBIDDEN);
+    }
+
+    private static void forbiddenAtOneMetre(Check check) {
+        for (int metre = 17; metre < 28; metre++) {
+            KerbHours k = new KerbHours();
+            Moves.parked(k, 5, Moves.VISITOR, 1, 20);
+            Moves.letting(k, Moves.NOBODY, 1, metre, metre);
+            boolean isOn = metre >= 20 && metre <= 24;
+            check.is("metre " + metre, k.judge(0), isOn ? KerbHours.FORBIDDEN : KerbHours.FINE);
+        }
+    }
+
+    private static void forbiddenGoesAhead(Check check) {
+        KerbHours k = withOne();
+        k.sign(0, 0, 1, Moves.ALL, 1, true, false);
+        Moves.letting(k, Moves.NOBODY, 0, 2, 2);
+        k.pass(5);
+        check.is("forbidden, overstayed and unpaid", k.judge(0), KerbHours.FORBIDDEN);
+        k.takeDown(1);
+        check.is("no longer forbidden", k.judge(0), KerbHours.OVERSTAYED);
+    }
+
+    private static void forbiddenByTheSignThatCounts(Check check) {
+        KerbHours k = withForbidden();
+        check.is("by the one sign", k.judge(0), KerbHours.FORBIDDEN);
+        Moves.plain(k, 0, 0, 1);
+        check.is("one metre is left to it", k.judge(0), KerbHours.FORBIDDEN);
+        Moves.letting(k, 1 << Moves.VISITOR, 0, 0, 2);
+        check.is("another one counts", k.judge(0), KerbHours.FINE);
+        Moves.letting(k, Moves.ALL - (1 << Moves.VISITOR), 0, 1, 1);
+        check.is("all but its user", k.judge(0), KerbHours.FORBIDDEN);
+    }
+
+    private static void forbiddenAsItCountsThen(Check check) {
+        KerbHours k = new KerbHours();
+        Moves.parked(k, 3, Moves.RESIDENT, 0, 0);
+        Moves.parked(k, 3, Moves.RESIDENT, 1, 0);
+        Moves.letting(k, 1 << Moves.RESIDENT, 0, 0, 59);
+        Moves.letting(k, 1 << Moves.VISITOR, 1, 0, 59);
+        check.is("without a permit, for residents", k.judge(0), KerbHours.FORBIDDEN);
+        check.is("without a permit, for visitors", k.judge(1), KerbHours.FINE);
+        k.permit(0, 0, 0, 0, 0);
+        k.permit(1, 1, 0, 0, 0);
+        check.is("with a permit, for residents", k.judge(0), KerbHours.FINE);
+        check.is("with a permit, for visitors", k.judge(1), KerbHours.FORBIDDEN);
+        k.pass(96);
+        check.is("the day behind, for residents", k.judge(0), KerbHours.FORBIDDEN);
+        check.is("the day behind, for visitors", k.judge(1), KerbHours.FINE);
+    }
+
+    private static void overstayedByMoreThanTheStayAndOne(Check check) {
+        for (int stay : new int[] {1, 2, 50, 95}) {
+            KerbHours k = new KerbHours();
+            Moves.withStay(k, stay, 0, 0, 59);
+            k.pass(7);
+            Moves.parked(k, 3, Moves.VISITOR, 0, 0);
+            k.pass(stay);
+            check.is("the stay " + stay, k.judge(0), KerbHours.FINE);
+            k.pass(1);
+            check.is("the stay and 1, " + stay, k.judge(0), KerbHours.FINE);
+            k.pass(1);
+            check.is("the stay and 2, " + stay, k.judge(0), KerbHours.OVERSTAYED);
+        }
+    }
+
+    private static void overstayedAtTheFirstMetre(Check check) {
+        KerbHours k = withOne();
+        Moves.parked(k, 3, Moves.VISITOR, 0, 10);
+        Moves.withStay(k, 1, 0, 0, 0);
+        Moves.withStay(k, 1, 0, 11, 12);
+        k.pass(10);
+        check.is("at its first metre", k.judge(0), KerbHours.OVERSTAYED);
+        check.is("at its other metres", k.judge(1), KerbHours.FINE);
+        Moves.withStay(k, 9, 0, 0, 0);
+        check.is("the sign told last counts", k.judge(0), KerbHours.FINE);
+    }
+
+    private static void overstayedGoesAhead(Check check) {
+        KerbHours k = withOne();
+        k.sign(0, 0, 59, Moves.ALL, 1, true, false);
+        k.pass(2);
+        check.is("unpaid", k.judge(0), KerbHours.UNPAID);
+        k.pass(1);
+        check.is("overstayed and unpaid", k.judge(0), KerbHours.OVERSTAYED);
+        k.pay(0, 0, 0, 96);
+        check.is("overstayed and paid", k.judge(0), KerbHours.OVERSTAYED);
+    }
+
+    private static void overstayedIfThereIsAStay(Check check) {
+        KerbHours k = withOne();
+        Moves.withStay(k, 0, 0, 0, 59);
+        k.pass(2);
+        check.is("2 quarters by any", k.judge(0), KerbHours.FINE);
+        Moves.passDays(k, 3);
+        check.is("3 days by any", k.judge(0), KerbHours.FINE);
+        Moves.withStay(k, 1, 0, 0, 59);
+        check.is("3 days by 1", k.judge(0), KerbHours.OVERSTAYED);
+    }
+
+    private static void unpaidAtTheFirstMetre(Check check) {
+        KerbHours k = withOne();
+        Moves.parked(k, 3, Moves.VISITOR, 0, 10);
+        Moves.withFee(k, 0, 0, 0);
+        Moves.withFee(k, 0, 11, 12);
+        k.pass(2);
+        check.is("at its first metre", k.judge(0), KerbHours.UNPAID);
+        check.is("at its other metres", k.judge(1), KerbHours.FINE);
+        Moves.plain(k, 0, 0, 0);
+        check.is("the sign told last has none", k.judge(0), KerbHours.FINE);
+    }
+
+    private static void unpaidBehindOneQuarter(Check check) {
+        KerbHours k = new KerbHours();
+        Moves.withFee(k, 0, 0, 59);
+        k.pass(5);
+        Moves.parked(k, 3, Moves.VISITOR, 0, 0);
+        check.is("at once", k.judge(0), KerbHours.FINE);
         k.pass(1);
         check.is("1 quarter", k.judge(0), KerbHours.FINE);
         k.pass(1);
         check.is("2 quarters", k.judge(0), KerbHours.UNPAID);
-        check.is("not by its other metres", k.judge(1), KerbHours.FINE);
     }
 
-    private static void judgedByPayment(Check check) {
-        KerbHours k = withOne();
-        k.car(3, V);
-        k.sign(0, 0, 59, ALL, 0, true, false);
+    private static void unpaidIfNoneCovers(Check check) {
+        KerbHours k = withFee();
         k.pass(10);
-        k.pay(1, 0, 10, 5);
-        check.is("another car's", k.judge(0), KerbHours.UNPAID);
-        k.pay(0, 1, 10, 5);
-        check.is("of another street", k.judge(0), KerbHours.UNPAID);
         k.pay(0, 0, 5, 5);
-        check.is("up to now", k.judge(0), KerbHours.UNPAID);
-        k.pay(0, 0, 8, 3);
-        check.is("with now", k.judge(0), KerbHours.FINE);
+        check.is("one up to the quarter ahead", k.judge(0), KerbHours.UNPAID);
+        k.pay(0, 0, 10, 1);
+        k.pay(0, 0, 0, 1);
+        check.is("one of three covers it", k.judge(0), KerbHours.FINE);
         k.pass(1);
-        check.is("a quarter later", k.judge(0), KerbHours.UNPAID);
-        k.pay(0, 0, 11, 1);
-        check.is("from now on", k.judge(0), KerbHours.FINE);
+        check.is("none covers the next", k.judge(0), KerbHours.UNPAID);
     }
 
-    private static void judgedOnItsMetresAlone(Check check) {
-        KerbHours k = new KerbHours();
-        k.car(3, V);
-        k.pass(30);
-        k.sign(0, 19, 19, NOBODY, 1, true, false);
-        k.sign(0, 23, 23, NOBODY, 1, true, false);
-        k.block(0, 19, true);
-        k.block(0, 23, true);
-        k.park(0, 0, 20);
-        k.pass(3);
-        check.is("between what is wrong", k.judge(0), KerbHours.FINE);
-        k.sign(0, 20, 22, ALL, 2, false, false);
-        check.is("parked at 30, the stay and 1", k.judge(0), KerbHours.FINE);
-        k.pass(1);
-        check.is("parked at 30, the stay and 2", k.judge(0), KerbHours.OVERSTAYED);
+    private static void otherwiseFine(Check check) {
+        KerbHours k = withOne();
+        k.sign(0, 0, 59, 1 << Moves.VISITOR, 5, true, false);
+        k.block(0, 3, true);
+        k.pass(6);
+        k.pay(0, 0, 6, 1);
+        check.is("let stand, the stay and 1, and paid", k.judge(0), KerbHours.FINE);
+        check.is("no fine", k.look(0), 0);
     }
 
-    /** Signs and permits that begin or end with the next quarter do not count at this one. */
-    private static void judgedByItsQuarter(Check check) {
-        KerbHours k = new KerbHours();
-        k.car(3, KerbHours.RESIDENT);
-        k.park(0, 0, 0);
-        k.sign(0, 0, 2, 1 << KerbHours.RESIDENT, 0, false, false);
-        k.times(127, 95, 96);
-        k.sign(0, 0, 1, ALL, 0, true, false);
-        k.permit(0, 0, 0, 0, 0);
-        k.pass(94);
-        check.is("the last quarter ahead of the second sign", k.judge(0), KerbHours.FINE);
-        k.pass(1);
-        check.is("the last quarter of the permit", k.judge(0), KerbHours.UNPAID);
-        check.is("look", k.look(0), 1);
-        k.pass(1);
-        check.is("the day behind the permit", k.judge(0), KerbHours.FORBIDDEN);
-        k.pay(0, 0, 96, 5);
-        check.is("a payment from the next quarter on", k.appeal(0), false);
-    }
+    // ---- looks and fines
 
-    private static void look(Check check) {
+    private static void lookAtAllThatStandThere(Check check) {
         KerbHours k = new KerbHours();
-        for (int i = 0; i < 4; i++) {
-            k.car(3, i == 1 ? KerbHours.TAXI : V);
+        for (int street = 0; street < 4; street++) {
+            Moves.letting(k, Moves.NOBODY, street, 0, 59);
         }
-        k.sign(0, 0, 59, 1 << KerbHours.TAXI, 0, false, false);
-        k.sign(1, 0, 59, NOBODY, 0, false, false);
-        k.park(3, 0, 0);
-        k.park(1, 0, 4);
-        k.park(2, 1, 0);
-        k.park(0, 0, 20);
-        k.pass(7);
-        check.refusesIndex("look(-1)", () -> k.look(-1));
-        check.refusesIndex("look(4)", () -> k.look(4));
-        check.is("look(2)", k.look(2), 0);
+        for (int i = 0; i < 6; i++) {
+            Moves.parked(k, 3, Moves.VISITOR, i % 2, i * 10);
+        }
+        k.car(3, Moves.VISITOR);
+        k.leave(2);
         check.is("look(0)", k.look(0), 2);
-        check.is("look(1)", k.look(1), 1);
-        int[] cars = {0, 3, 2};
-        for (int i = 0; i < 3; i++) {
-            check.is("car of " + i, k.fine(i, 0), cars[i]);
-            check.is("street of " + i, k.fine(i, 1), i == 2 ? 1 : 0);
-            check.is("quarter of " + i, k.fine(i, 2), 7);
-            check.is("judgement of " + i, k.fine(i, 3), KerbHours.FORBIDDEN);
+        int[] cars = {0, 4};
+        for (int i = 0; i < 2; i++) {
+            check.is("car of fine " + i, k.fine(i, 0), cars[i]);
         }
-        check.refusesIndex("no fourth", () -> k.fine(3, 0));
-        check.is("fines of 0", k.streetIs(0, 3), 2);
-        check.is("fines of 1", k.streetIs(1, 3), 1);
-        check.is("fines of 2", k.streetIs(2, 3), 0);
+        check.is("look(1)", k.look(1), 3);
+        check.is("look(2)", k.look(2), 0);
+        for (int i = 2; i < 5; i++) {
+            check.is("car of fine " + i, k.fine(i, 0), 2 * i - 3);
+        }
+    }
+
+    private static void lookByTheirNumbers(Check check) {
+        KerbHours k = new KerbHours();
+        for (int i = 0; i < 5; i++) {
+            k.car(3, Moves.VISITOR);
+        }
+        Moves.letting(k, Moves.NOBODY, 0, 0, 59);
+        int[] order = {3, 0, 4, 2, 1};
+        for (int i = 0; i < 5; i++) {
+            k.park(order[i], 0, 40 - i * 10);
+        }
+        check.is("look", k.look(0), 5);
+        for (int i = 0; i < 5; i++) {
+            check.is("car of fine " + i, k.fine(i, 0), i);
+        }
+    }
+
+    private static void notFineGetsAFine(Check check) {
+        KerbHours k = withOneOfEachJudgement();
+        check.is("look", k.look(0), 4);
+        for (int i = 0; i < 4; i++) {
+            check.is("car of fine " + i, k.fine(i, 0), i);
+            check.is("judgement of fine " + i, k.fine(i, 3), KerbHours.BLOCKED + i);
+        }
+        check.refusesIndex("none for the fifth car", () -> k.fine(4, 0));
+        check.is("debt of the fifth car", k.debt(4), 0);
+    }
+
+    /** Cars 0 to 3 are judged BLOCKED to UNPAID, car 4 FINE. */
+    static KerbHours withOneOfEachJudgement() {
+        KerbHours k = new KerbHours();
+        for (int i = 0; i < 5; i++) {
+            Moves.parked(k, 3, Moves.VISITOR, 0, i * 10);
+        }
+        k.block(0, 0, true);
+        Moves.letting(k, Moves.NOBODY, 0, 10, 12);
+        Moves.withStay(k, 1, 0, 20, 22);
+        Moves.withFee(k, 0, 30, 32);
+        k.pass(3);
+        return k;
+    }
+
+    private static void finesAreNumbered(Check check) {
+        KerbHours k = withForbidden();
+        check.refusesIndex("no fine ahead of a look", () -> k.fine(0, 0));
+        k.look(0);
+        check.is("the first", k.fine(0, 2), 0);
+        k.pass(96);
+        check.refusesIndex("no second one yet", () -> k.fine(1, 0));
+        k.look(0);
+        check.is("the second", k.fine(1, 2), 96);
+        check.is("the first, still", k.fine(0, 2), 0);
+    }
+
+    /** Thirteen cars on a street on which nobody may stand, fined on four days. */
+    static void withFiftyTwoFines(KerbHours k) {
+        for (int i = 0; i < 13; i++) {
+            Moves.parked(k, 3, Moves.VISITOR, 0, i * 4);
+        }
+        Moves.letting(k, Moves.NOBODY, 0, 0, 59);
+        for (int day = 0; day < 4; day++) {
+            k.look(0);
+            k.pass(96);
+        }
+    }
+
+    private static void finesAreSixty(Check check) {
+        KerbHours k = new KerbHours();
+        withFiftyTwoFines(k);
+        check.refusesIndex("no fine 52 yet", () -> k.fine(52, 0));
+        check.is("eight of thirteen are given", k.look(0), 8);
+        check.is("the last one's car", k.fine(59, 0), 7);
+        check.refusesIndex("no fine 60", () -> k.fine(60, 0));
+        check.is("fines of the street", k.streetIs(0, 3), 60);
+        check.is("debt of car 7", k.debt(7), 300);
+        check.is("debt of car 8", k.debt(8), 240);
+        k.payFine(0);
+        check.is("none more for a paid one", k.look(0), 0);
+        Twins twins = new Twins(all -> {
+            withFiftyTwoFines(all);
+            all.look(0);
+        });
+        twins.isUnchangedBy(check, "look with sixty fines", all -> all.look(0));
     }
 
     private static void oneFineOnADay(Check check) {
-        KerbHours k = withOne();
-        k.sign(0, 0, 59, NOBODY, 0, false, false);
-        k.pass(94);
-        check.is("first", k.look(0), 1);
-        check.is("again", k.look(0), 0);
+        KerbHours k = withForbidden();
+        check.is("at the day's first quarter", k.look(0), 1);
+        check.is("at the same quarter", k.look(0), 0);
         k.block(0, 0, true);
+        k.pass(95);
+        check.is("at the day's last quarter, blocked by now", k.look(0), 0);
         k.pass(1);
-        check.is("blocked, on the same day", k.look(0), 0);
-        k.pass(1);
-        check.is("on the next day", k.look(0), 1);
-        check.is("judgement of the next day", k.fine(1, 3), KerbHours.BLOCKED);
-        k.takeDown(0);
+        check.is("at the next day's first quarter", k.look(0), 1);
+        check.is("its judgement", k.fine(1, 3), KerbHours.BLOCKED);
+        k.pass(95);
+        check.is("at the next day's last quarter", k.look(0), 0);
         k.pass(96);
-        check.is("on the third day", k.look(0), 1);
-        k.block(0, 0, false);
+        check.is("at the third day's last quarter", k.look(0), 1);
+        k.pass(1);
+        check.is("at the fourth day's first quarter", k.look(0), 1);
+        check.is("fines of the street", k.streetIs(0, 3), 4);
+    }
+
+    private static void sinceItParkedThere(Check check) {
+        KerbHours k = withForbidden();
+        Moves.letting(k, Moves.NOBODY, 1, 0, 59);
+        check.is("first", k.look(0), 1);
         k.pass(1);
         k.leave(0);
-        k.sign(0, 0, 0, NOBODY, 0, false, false);
         k.pass(1);
         k.park(0, 0, 0);
         check.is("parked anew on the same day", k.look(0), 1);
         check.is("and again", k.look(0), 0);
         k.leave(0);
-        k.park(0, 0, 0);
-        check.is("parked anew in the same quarter", k.look(0), 1);
-        k.permit(0, 0, 0, 0, 520);
-        check.is("payFine(4)", k.payFine(4), 60);
-        check.is("paid, on the same day", k.look(0), 0);
+        k.park(0, 1, 0);
+        check.is("on another street", k.look(1), 1);
+        check.is("and again there", k.look(1), 0);
+        k.leave(0);
+        k.pass(1);
+        k.park(0, 1, 0);
+        check.is("parked anew there", k.look(1), 1);
+        k.pass(93);
+        check.is("on the next day, parked on the day ahead", k.look(1), 1);
+        check.is("and again on the next day", k.look(1), 0);
     }
 
-    private static void finesAreSixty(Check check) {
-        KerbHours k = new KerbHours();
-        for (int i = 0; i < 13; i++) {
-            k.car(3, V);
-            k.park(i, 0, i * 4);
-        }
-        k.sign(0, 0, 59, NOBODY, 0, false, false);
-        for (int day = 0; day < 4; day++) {
-            check.is("look of day " + day, k.look(0), 13);
-            k.pass(96);
-        }
-        check.is("up to sixty", k.look(0), 8);
-        check.is("the last one's car", k.fine(59, 0), 7);
-        check.refusesIndex("no fine 60", () -> k.fine(60, 0));
-        check.is("no more on the day", k.look(0), 0);
-        k.pass(96);
-        check.is("no more ever", k.look(0), 0);
-        check.is("fines of the street", k.streetIs(0, 3), 60);
-        check.is("debt of car 7", k.debt(7), 300);
-        check.is("debt of car 8", k.debt(8), 240);
-        check.is("payFine(0)", k.payFine(0), 60);
-        check.is("no more for a paid one", k.look(0), 0);
+    private static void takenBackOrNot(Check check) {
+        KerbHours k = withFee();
+        Moves.parked(k, 3, Moves.VISITOR, 0, 10);
+        Moves.parked(k, 3, Moves.VISITOR, 0, 20);
+        k.pass(2);
+        check.is("three", k.look(0), 3);
+        k.pay(0, 0, 2, 1);
+        check.is("taken back", k.appeal(0), true);
+        check.is("paid", k.payFine(1), 40);
+        check.is("appealed in vain", k.appeal(2), false);
+        k.pass(1);
+        check.is("judge", k.judge(0), KerbHours.UNPAID);
+        check.is("none on the same day", k.look(0), 0);
+        k.pass(93);
+        check.is("all on the next day", k.look(0), 3);
     }
 
-    private static void appealByPayment(Check check) {
-        KerbHours k = withOne();
-        k.sign(0, 0, 59, ALL, 0, true, false);
-        k.pass(90);
+    private static void amounts(Check check) {
+        KerbHours k = withOneOfEachJudgement();
         k.look(0);
-        k.pass(20);
+        int[] amounts = {100, 60, 30, 40};
+        for (int i = 0; i < 4; i++) {
+            check.is("debt of car " + i, k.debt(i), amounts[i]);
+            check.is("payFine(" + i + ")", k.payFine(i), amounts[i]);
+        }
+    }
+
+    // ---- appeals
+
+    private static void appealOnce(Check check) {
+        KerbHours k = withFee();
+        k.pass(2);
+        k.look(0);
+        check.is("in vain", k.appeal(0), false);
+        k.pay(0, 0, 2, 1);
+        check.refusesState("again, though it would be taken back now", () -> k.appeal(0));
+        check.is("it is not taken back", k.fine(0, 4), 0);
+        check.is("debt", k.debt(0), 40);
+        k.pass(96);
+        k.look(0);
+        k.pay(0, 0, 98, 1);
+        check.is("taken back", k.appeal(1), true);
+        check.refusesState("again, though taken back", () -> k.appeal(1));
+        check.is("it stays taken back", k.fine(1, 4), 1);
+    }
+
+    private static void appealForItsQuarter(Check check) {
+        KerbHours k = new KerbHours();
+        Moves.parked(k, 3, Moves.RESIDENT, 0, 0);
+        k.sign(0, 0, 59, 1 << Moves.RESIDENT, 4, true, false);
+        k.times(127, 5, 6);
+        Moves.letting(k, Moves.NOBODY, 0, 0, 2);
+        k.pass(1);
+        check.is("a visitor at 1", k.look(0), 1);
+        k.pass(96);
+        check.is("a visitor at 97", k.look(0), 1);
+        k.pass(4);
+        check.is("judge at 101", k.judge(0), KerbHours.FORBIDDEN);
+        k.permit(0, 0, 0, 0, 1);
+        check.is("at 1 it had stood 1 quarter", k.appeal(0), true);
+        check.is("at 97 it had stood 97", k.appeal(1), false);
+        KerbHours other = withOne();
+        other.times(127, 0, 5);
+        Moves.letting(other, Moves.NOBODY, 0, 0, 59);
+        other.pass(4);
+        other.look(0);
+        other.pass(1);
+        check.is("judge now", other.judge(0), KerbHours.FINE);
+        check.is("the sign held at its quarter", other.appeal(0), false);
+    }
+
+    private static void appealForItsPlace(Check check) {
+        KerbHours k = withFee();
+        Moves.letting(k, Moves.NOBODY, 1, 0, 59);
+        k.pass(2);
         k.look(0);
         k.leave(0);
-        k.pay(0, 0, 88, 3);
-        check.is("covered later", k.appeal(0), true);
-        check.is("taken back", k.fine(0, 4), 1);
-        check.is("it keeps its judgement", k.fine(0, 3), KerbHours.UNPAID);
-        k.pay(0, 0, 20, 90);
-        check.is("covered up to it", k.appeal(1), false);
-        check.is("not taken back", k.fine(1, 4), 0);
-        check.is("debt", k.debt(0), 40);
+        k.pay(0, 0, 2, 1);
+        k.park(0, 1, 30);
+        check.is("paid for the place of then", k.appeal(0), true);
+        check.is("a fine at the place of now", k.look(1), 1);
+        k.leave(0);
+        k.park(0, 0, 30);
+        k.pay(0, 0, 2, 96);
+        check.is("not let stand at the place of then", k.appeal(1), false);
+        KerbHours gone = withForbidden();
+        gone.look(0);
+        gone.leave(0);
+        gone.takeDown(0);
+        check.is("gone, and the sign was taken down in its quarter", gone.appeal(0), true);
     }
 
-    private static void appealByPermit(Check check) {
-        KerbHours k = new KerbHours();
-        k.car(3, KerbHours.RESIDENT);
-        k.car(3, KerbHours.RESIDENT);
-        k.sign(2, 0, 59, 1 << KerbHours.RESIDENT, 0, false, false);
-        k.park(0, 2, 0);
-        k.park(1, 2, 10);
-        check.is("day 0", k.look(2), 2);
-        k.pass(96);
-        check.is("day 1", k.look(2), 2);
-        k.pass(96);
-        k.permit(0, 2, 0, 1, 1);
-        check.is("no permit of day 0", k.appeal(0), false);
-        check.is("a permit of day 1", k.appeal(2), true);
-        k.hand(0, 1);
-        check.is("a permit handed", k.appeal(3), true);
-        k.permit(1, 1, 1, 0, 0);
-        check.is("a permit of another street", k.appeal(1), false);
-        check.is("debt of 0", k.debt(0), 60);
-        check.is("debt of 1", k.debt(1), 60);
-    }
-
-    private static void appealByBlockedMetres(Check check) {
-        KerbHours k = withOne();
-        k.car(3, V);
-        k.park(1, 0, 10);
-        k.sign(0, 10, 12, ALL, 0, true, false);
-        k.block(0, 1, true);
-        k.pass(5);
-        check.is("look", k.look(0), 2);
-        k.block(0, 1, false);
-        k.block(0, 11, true);
-        check.is("it was blocked", k.appeal(0), false);
-        k.pay(1, 0, 5, 1);
-        check.is("it was not blocked", k.appeal(1), true);
-    }
-
-    private static void appealBySigns(Check check) {
-        KerbHours k = withOne();
-        k.sign(0, 0, 59, NOBODY, 0, false, false);
+    private static void appealByAllSigns(Check check) {
+        KerbHours k = withForbidden();
         k.pass(3);
         k.look(0);
         k.takeDown(0);
         check.is("taken down in its quarter", k.appeal(0), true);
         k.pass(96);
-        k.sign(0, 0, 59, NOBODY, 0, false, false);
+        Moves.letting(k, Moves.NOBODY, 0, 0, 59);
         k.look(0);
         k.pass(1);
         k.takeDown(1);
-        k.sign(0, 0, 0, ALL, 0, false, false);
-        check.is("taken down later", k.appeal(1), false);
-        check.is("no look without a sign", k.look(0), 0);
+        Moves.plain(k, 0, 0, 2);
+        check.is("taken down later, and another one told later", k.appeal(1), false);
         k.pass(95);
-        k.sign(0, 0, 2, NOBODY, 0, false, false);
-        check.is("a third", k.look(0), 1);
-        k.sign(0, 0, 2, ALL, 0, false, false);
-        check.is("another one in its quarter", k.appeal(2), true);
+        Moves.letting(k, Moves.NOBODY, 0, 0, 2);
+        k.look(0);
+        Moves.plain(k, 0, 0, 2);
+        check.is("another one told in its quarter", k.appeal(2), true);
+        Moves.letting(k, Moves.NOBODY, 0, 0, 0);
+        k.pass(96);
+        k.look(0);
+        Moves.temporary(k, 0, 0, 0);
+        check.is("a temporary one told in its quarter", k.appeal(3), false);
     }
 
-    private static void appealRefused(Check check) {
-        KerbHours k = withOne();
-        k.sign(0, 0, 59, ALL, 1, true, false);
-        check.refusesIndex("appeal(0) without a fine", () -> k.appeal(0));
+    private static void appealByPermits(Check check) {
+        KerbHours k = new KerbHours();
+        Moves.parked(k, 3, Moves.RESIDENT, 2, 0);
+        Moves.parked(k, 3, Moves.RESIDENT, 2, 10);
+        Moves.letting(k, 1 << Moves.RESIDENT, 2, 0, 59);
+        check.is("day 0", k.look(2), 2);
+        k.pass(96);
+        check.is("day 1", k.look(2), 2);
+        k.pass(96);
+        k.permit(0, 2, 0, 1, 1);
+        check.is("none of day 0", k.appeal(0), false);
+        check.is("one of day 1", k.appeal(2), true);
+        k.hand(0, 1);
+        check.is("one handed", k.appeal(3), true);
+        check.is("who had it stays free", k.fine(2, 4), 1);
+        k.permit(1, 1, 1, 0, 0);
+        check.is("one of another street", k.appeal(1), false);
+    }
+
+    private static void appealByPayments(Check check) {
+        KerbHours k = withFee();
+        k.pass(90);
+        k.look(0);
+        k.pass(20);
+        k.look(0);
+        k.pay(0, 0, 88, 3);
+        check.is("told 20 quarters later", k.appeal(0), true);
+        k.pay(0, 0, 20, 90);
+        check.is("up to the quarter ahead", k.appeal(1), false);
+    }
+
+    private static void appealByBlockedMetres(Check check) {
+        KerbHours k = withFee();
+        Moves.parked(k, 3, Moves.VISITOR, 0, 10);
+        k.block(0, 2, true);
+        k.pass(5);
+        check.is("look", k.look(0), 2);
+        k.block(0, 2, false);
+        k.block(0, 10, true);
+        k.pay(0, 0, 5, 1);
+        k.pay(1, 0, 5, 1);
+        check.is("it was blocked, and is not now", k.appeal(0), false);
+        check.is("it was not blocked, and is now", k.appeal(1), true);
+        k.leave(0);
+        k.pass(96);
+        k.park(0, 0, 0);
+        k.block(0, 0, true);
+        k.block(0, 10, false);
+        check.is("both again", k.look(0), 2);
+        k.pass(1);
+        check.is("still blocked", k.appeal(2), false);
+    }
+
+    private static void takenBackIfFineNow(Check check) {
+        KerbHours k = withFee();
         k.pass(2);
         k.look(0);
+        k.pay(0, 0, 2, 1);
+        check.is("FINE now", k.appeal(0), true);
+        check.is("taken back", k.fine(0, 4), 1);
+        check.is("not paid", k.fine(0, 5), 0);
+        check.is("debt", k.debt(0), 0);
         k.pass(96);
         k.look(0);
-        k.pass(96);
+        check.is("not FINE", k.appeal(1), false);
+        check.is("not taken back", k.fine(1, 4), 0);
+        check.is("debt of the second", k.debt(0), 40);
+    }
+
+    private static void notTakenBackIfPaid(Check check) {
+        KerbHours k = withFee();
+        k.pass(2);
         k.look(0);
-        check.refusesIndex("appeal(-1)", () -> k.appeal(-1));
-        check.refusesIndex("appeal(3)", () -> k.appeal(3));
-        check.is("in vain", k.appeal(1), false);
-        check.is("it stays as it was", k.fine(1, 3), KerbHours.OVERSTAYED);
-        check.refusesState("once only, in vain", () -> k.appeal(1));
-        k.payFine(2);
-        check.refusesState("paid", () -> k.appeal(2));
-        check.is("not taken back", k.fine(2, 4), 0);
-        check.is("what was appealed in vain can be paid", k.payFine(1), 30);
-        check.refusesState("both", () -> k.appeal(1));
-        KerbHours other = withOne();
-        other.sign(0, 0, 59, ALL, 0, true, false);
-        other.pass(2);
-        other.look(0);
-        other.pay(0, 0, 2, 1);
-        check.is("taken back", other.appeal(0), true);
-        check.refusesState("once only, taken back", () -> other.appeal(0));
-        check.is("it is still taken back", other.fine(0, 4), 1);
+        k.pay(0, 0, 2, 1);
+        k.payFine(0);
+        check.refusesState("appeal, paid", () -> k.appeal(0));
+        check.is("not taken back", k.fine(0, 4), 0);
+        check.is("paid", k.fine(0, 5), 1);
     }
 
-    private static void payFine(Check check) {
-        KerbHours k = new KerbHours();
-        for (int i = 0; i < 4; i++) {
-            k.car(3, V);
-            k.park(i, 0, i * 10);
-        }
-        k.block(0, 0, true);
-        k.sign(0, 10, 12, NOBODY, 0, false, false);
-        k.sign(0, 20, 22, ALL, 1, false, false);
-        k.sign(0, 30, 32, ALL, 0, true, false);
-        k.pass(3);
-        check.is("four fines", k.look(0), 4);
-        int[] amounts = {100, 60, 30, 40};
-        for (int i = 0; i < 4; i++) {
-            check.is("debt of " + i, k.debt(i), amounts[i]);
-        }
-        check.is("appeal(3)", k.pay(3, 0, 3, 1) == 4 && k.appeal(3), true);
-        check.refusesState("taken back", () -> k.payFine(3));
-        check.is("not paid", k.fine(3, 5), 0);
-        for (int i = 0; i < 3; i++) {
-            check.is("payFine(" + i + ")", k.payFine(i), amounts[i]);
-            int paid = i;
-            check.refusesState("paid " + i, () -> k.payFine(paid));
-            check.is("debt of paid " + i, k.debt(i), 0);
-        }
-        check.refusesIndex("payFine(-1)", () -> k.payFine(-1));
-        check.refusesIndex("payFine(4)", () -> k.payFine(4));
-    }
-
-    private static void tellsOfAFine(Check check) {
-        KerbHours k = new KerbHours();
-        k.car(3, V);
-        k.car(3, V);
-        k.block(2, 1, true);
-        k.park(1, 2, 1);
-        k.pass(50);
-        k.look(2);
-        int[] due = {1, 2, 50, KerbHours.BLOCKED, 0, 0};
+    /** The fine is judged another way by the appeal, but not FINE. */
+    private static void staysAsItWasGiven(Check check) {
+        KerbHours k = withOne();
+        Moves.withStay(k, 1, 0, 0, 2);
+        k.pass(5);
+        k.look(0);
+        Moves.withFee(k, 0, 0, 2);
+        check.is("unpaid instead of overstayed", k.appeal(0), false);
+        int[] due = {0, 0, 5, KerbHours.OVERSTAYED, 0, 0};
         for (int what = 0; what < 6; what++) {
             check.is("fine(0, " + what + ")", k.fine(0, what), due[what]);
         }
-        k.payFine(0);
-        check.is("fine(0, 5), paid", k.fine(0, 5), 1);
-        check.is("fine(0, 4), paid", k.fine(0, 4), 0);
-        for (int what : new int[] {-1, 6, Integer.MAX_VALUE, Integer.MIN_VALUE}) {
-            check.refusesArgument("fine(0, " + what + ")", () -> k.fine(0, what));
-            check.refusesIndex("fine(1, " + what + ")", () -> k.fine(1, what));
-        }
-        check.refusesIndex("fine(-1, 0)", () -> k.fine(-1, 0));
+        check.is("debt", k.debt(0), 30);
+        Moves.letting(k, Moves.NOBODY, 0, 0, 2);
+        check.is("payFine", k.payFine(0), 30);
     }
 
-    private static void debtAndTow(Check check) {
-        KerbHours k = withOne();
-        k.car(3, V);
-        k.block(0, 0, true);
-        check.refusesIndex("debt(-1)", () -> k.debt(-1));
-        check.refusesIndex("debt(2)", () -> k.debt(2));
-        check.refusesIndex("tow(-1)", () -> k.tow(-1));
-        check.refusesIndex("tow(2)", () -> k.tow(2));
-        check.is("no debt", k.debt(0), 0);
-        check.refusesState("tow without a debt", () -> k.tow(0));
+    // ---- debts and towing
+
+    private static void debt(Check check) {
+        KerbHours k = withOneOfEachJudgement();
+        check.is("without a fine", k.debt(0), 0);
         k.look(0);
-        k.pass(96);
-        k.block(0, 0, false);
-        k.sign(0, 0, 0, NOBODY, 0, false, false);
-        k.look(0);
-        k.pass(96);
-        k.takeDown(0);
-        k.sign(0, 0, 0, ALL, 1, false, false);
-        k.look(0);
-        check.is("debt of three", k.debt(0), 190);
-        check.refusesState("tow by 190", () -> k.tow(0));
+        k.leave(0);
+        k.leave(3);
+        k.pass(1);
+        k.park(0, 0, 30);
+        k.pass(2);
+        check.is("an unpaid one for car 0", k.look(0), 1);
+        check.is("100 and 40", k.debt(0), 140);
+        k.payFine(0);
+        check.is("without the paid one", k.debt(0), 40);
+        k.pay(0, 0, 6, 1);
+        check.is("appeal", k.appeal(4), true);
+        check.is("without the one taken back", k.debt(0), 0);
+        check.is("of another car", k.debt(1), 60);
+        k.appeal(1);
+        check.is("with one appealed in vain", k.debt(1), 60);
+        check.is("of one that has left", k.debt(3), 40);
+        check.is("of one without a fine", k.debt(4), 0);
+    }
+
+    /** Car 0 owes 100, 60 and 30, then pays the last one and owes 40 more. */
+    private static void canBeTowed(Check check) {
+        KerbHours k = owing190();
+        check.is("debt", k.debt(0), 190);
+        check.refusesState("with 190", () -> k.tow(0));
         k.payFine(2);
         k.pass(96);
         k.takeDown(1);
-        k.sign(0, 0, 0, ALL, 0, true, false);
+        Moves.withFee(k, 0, 0, 0);
         k.look(0);
-        check.is("debt of 200", k.debt(0), 200);
-        check.is("of another car", k.debt(1), 0);
-        check.is("tow by 200", k.tow(0), 200);
-        check.is("it stands no more", k.judge(0), KerbHours.NONE);
-        check.is("nothing taken", k.streetIs(0, 1), 0);
-        check.is("it still owes", k.debt(0), 200);
-        check.refusesState("towed", () -> k.tow(0));
-        check.refusesState("it cannot leave", () -> k.leave(0));
-        k.park(0, 1, 0);
-        check.is("towed again", k.tow(0), 200);
-        k.park(0, 1, 0);
-        k.payFine(0);
-        check.refusesState("after a payment", () -> k.tow(0));
+        check.is("debt then", k.debt(0), 200);
+        k.leave(0);
+        check.refusesState("with 200, but gone", () -> k.tow(0));
+        k.park(0, 2, 0);
+        check.is("with 200", k.tow(0), 200);
+        KerbHours more = owing190();
+        more.pass(96);
+        more.look(0);
+        check.is("with 220", more.tow(0), 220);
+    }
+
+    /** Fined BLOCKED, FORBIDDEN and OVERSTAYED on three days, by signs 0 and 1. */
+    static KerbHours owing190() {
+        KerbHours k = withOne();
+        k.block(0, 0, true);
+        k.look(0);
+        k.pass(96);
+        k.block(0, 0, false);
+        Moves.letting(k, Moves.NOBODY, 0, 0, 0);
+        k.look(0);
+        k.pass(96);
+        k.takeDown(0);
+        Moves.withStay(k, 1, 0, 0, 0);
+        k.look(0);
+        return k;
+    }
+
+    private static void towedStandsNoMore(Check check) {
+        KerbHours k = owing190();
+        k.pass(96);
+        k.look(0);
+        k.tow(0);
+        check.is("judge", k.judge(0), Moves.NONE);
+        check.is("taken", k.streetIs(0, 1), 0);
+        check.is("gap", k.gap(0, 12), 0);
+        check.is("debt", k.debt(0), 220);
+        check.refusesState("leave", () -> k.leave(0));
+        check.refusesState("tow again", () -> k.tow(0));
+        check.accepts("park anew", () -> k.park(0, 0, 0));
+        check.is("parked anew, it has its stay anew", k.look(0), 0);
+        k.pass(3);
+        check.is("parked anew, it is fined anew on the same day", k.look(0), 1);
     }
 }
