@@ -13,6 +13,7 @@ public final class CarsTest {
         Sentence.term("it may be told for days gone by.", CarsTest::forDaysGoneBy),
         Sentence.term("A home may have two on each day at most,", CarsTest::homeHasTwo),
         Sentence.term("A home may have two on each day at most,", CarsTest::homeHasTwoOnEachOfItsDays),
+        Sentence.term("on each day", CarsTest::homeHasMoreThanTwoOnOtherDays),
         Sentence.term("of whatever street.", CarsTest::ofWhateverStreet),
         Sentence.term("A car parks at a metre of a street, and takes so many from there on as it is long;",
                 CarsTest::takesItsLength),
@@ -173,6 +174,18 @@ public final class CarsTest {
                 check.is("a second from " + days[0] + " to " + days[1], k.permit(0, 0, 4, days[0], days[1]), 2);
             }
         }
+    }
+
+    /** What counts is how many there are on one day, not how many days of others a permit meets. */
+    private static void homeHasMoreThanTwoOnOtherDays(Check check) {
+        KerbHours k = new KerbHours();
+        k.car(3, Moves.RESIDENT);
+        for (int i = 0; i < 4; i++) {
+            check.is("days " + i * 10 + " to " + (i * 10 + 9), k.permit(0, 0, 4, i * 10, i * 10 + 9), i);
+        }
+        check.is("a second one over all of them", k.permit(0, 0, 4, 0, 520), 4);
+        check.refusesState("a third on one of their days", () -> k.permit(0, 0, 4, 39, 39));
+        check.is("a second on the day behind them", k.permit(0, 0, 4, 40, 40), 5);
     }
 
     private static KerbHours homeOfTwoPermits(boolean isLaterFirst) {

@@ -10,16 +10,15 @@ final class Check {
         this.name = name;
     }
 
-    /** What follows belongs to this sentence of the document, until the next one begins. */
-    void begin(String sentence) {
-        under = sentence;
+    /** The test of one sentence of the document; without an answer it would be no test. */
+    void under(String sentence, Runnable test) {
+        under = "[" + sentence + "] ";
         answersUnder = 0;
-    }
-
-    /** A sentence without an answer would be no test. */
-    void endSentence() {
-        if (answersUnder == 0) {
-            note(false, "no answer was looked at");
+        try {
+            test.run();
+            holds("no answer was looked at", answersUnder > 0);
+        } catch (RuntimeException e) {
+            holds("it ends by " + e, false);
         }
         under = "";
     }
@@ -84,7 +83,7 @@ final class Check {
             right++;
         } else {
             wrong++;
-            System.out.println(name + ": " + (under.isEmpty() ? "" : "[" + under + "] ") + text);
+            System.out.println(name + ": " + under + text);
         }
     }
 

@@ -252,6 +252,7 @@ public final class FineCallsTest {
         check.is("four", k.look(0), 4);
         check.is("none again", k.look(0), 0);
         k.leave(1);
+        k.pass(1);
         k.park(1, 0, 10);
         check.is("one more", k.look(0), 1);
         k.pass(96);

@@ -480,6 +480,10 @@ public final class FinesTest {
         check.is("parked anew on the same day", k.look(0), 1);
         check.is("and again", k.look(0), 0);
         k.leave(0);
+        k.park(0, 0, 0);
+        check.is("parked anew in the same quarter", k.look(0), 1);
+        check.is("and again then", k.look(0), 0);
+        k.leave(0);
         k.park(0, 1, 0);
         check.is("on another street", k.look(1), 1);
         check.is("and again there", k.look(1), 0);
@@ -779,6 +783,7 @@ public final class FinesTest {
         check.is("debt", k.debt(0), 220);
         check.refusesState("leave", () -> k.leave(0));
         check.refusesState("tow again", () -> k.tow(0));
+        k.pass(1);
         check.accepts("park anew", () -> k.park(0, 0, 0));
         check.is("parked anew, it has its stay anew", k.look(0), 0);
         k.pass(3);

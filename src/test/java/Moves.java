@@ -1,6 +1,6 @@
 /** Calls that many tests make. */
 final class Moves {
-    static final int ALL = 31, NOBODY = 0, DAY = 96, LAST_DAY = 520;
+    static final int ALL = 31, NOBODY = 0, DAY = 96;
     static final int NONE = KerbHours.NONE, VISITOR = KerbHours.VISITOR, RESIDENT = KerbHours.RESIDENT;
 
     private Moves() {

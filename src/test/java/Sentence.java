@@ -14,9 +14,7 @@ record Sentence(String heading, String quote, Consumer<Check> test) {
     static void runAll(String name, Sentence[] sentences) {
         Check check = new Check(name);
         for (Sentence sentence : sentences) {
-            check.begin(sentence.heading + ": " + sentence.quote);
-            sentence.test.accept(check);
-            check.endSentence();
+            check.under(sentence.heading + ": " + sentence.quote, () -> sentence.test.accept(check));
         }
         check.end();
     }

@@ -308,6 +308,13 @@ public final class SignsTest {
         k.times(2, 10, 20);
         k.dates(7, 9);
         Moves.rule(check, k, 1, 0, 0, 1);
+        KerbHours other = new KerbHours();
+        other.dates(7, 9);
+        other.times(2, 10, 20);
+        Moves.plain(other, 0, 0, 59);
+        Moves.rule(check, other, 0, 0, 96 + 10, Moves.NONE);
+        Moves.rule(check, other, 0, 0, 8 * 96 + 9, Moves.NONE);
+        Moves.rule(check, other, 0, 0, 8 * 96 + 10, 0);
     }
 
     private static void isAlways(Check check, KerbHours k, int street, int sign) {
