@@ -184,8 +184,8 @@ public final class CarCallsTest {
     }
 
     private static void permitNoCarStreetOrHome(Check check) {
-        int[][] wrong = {{-1, 0, 5}, {6, 0, 5}, {29, 0, 5}, {0, -1, 5}, {0, 4, 5}, {0, 0, -1}, {0, 0, 10}, {MIN, 0, 5}, {MAX, 0, 5},
-                {0, MIN, 5}, {0, MAX, 5}, {0, 0, MIN}, {0, 0, MAX}};
+        int[][] wrong = {{-1, 0, 5}, {6, 0, 5}, {29, 0, 5}, {0, -1, 5}, {0, 4, 5}, {0, 0, -1}, {0, 0, 10}, {MIN, 0, 5},
+                {MAX, 0, 5}, {0, MIN, 5}, {0, MAX, 5}, {0, 0, MIN}, {0, 0, MAX}};
         for (int[] w : wrong) {
             String call = "permit(" + w[0] + ", " + w[1] + ", " + w[2];
             BUSY.refusesIndex(check, call + ", 0, 0)", k -> k.permit(w[0], w[1], w[2], 0, 0));
@@ -377,8 +377,8 @@ public final class CarCallsTest {
     }
 
     private static void parkNoCarStreetOrMetre(Check check) {
-        int[][] wrong = {{-1, 0, 0}, {6, 0, 0}, {29, 0, 0}, {30, 0, 0}, {MIN, 0, 0}, {MAX, 0, 0}, {1, -1, 0}, {1, 4, 0}, {1, MIN, 0},
-                {1, MAX, 0}, {1, 0, -1}, {1, 0, 60}, {1, 0, MIN}, {1, 0, MAX}};
+        int[][] wrong = {{-1, 0, 0}, {6, 0, 0}, {29, 0, 0}, {30, 0, 0}, {MIN, 0, 0}, {MAX, 0, 0}, {1, -1, 0}, {1, 4, 0},
+                {1, MIN, 0}, {1, MAX, 0}, {1, 0, -1}, {1, 0, 60}, {1, 0, MIN}, {1, 0, MAX}};
         for (int[] w : wrong) {
             BUSY.refusesIndex(check, "park(" + w[0] + ", " + w[1] + ", " + w[2] + ")", k -> k.park(w[0], w[1], w[2]));
         }

@@ -1,7 +1,7 @@
 /** What the terms say of payments, judgements, looks, fines, appeals, debts and towing. */
 public final class FinesTest {
-    private static final String OVERSTAYED_IF =
-            "otherwise OVERSTAYED, if it has stood more quarters than the stay, and 1, of the sign that counts at its first metre,";
+    private static final String OVERSTAYED_IF = "otherwise OVERSTAYED, if it has stood more quarters than the stay, and 1, "
+            + "of the sign that counts at its first metre,";
 
     static final Sentence[] SENTENCES = {
         Sentence.term("A payment is of a car", FinesTest::paymentOfACar),

@@ -355,7 +355,7 @@ public final class PricesTest {
         }
     }
 
-    /** No run of 512 calls comes this far, so that the answers here are free; the class keeps to the promise all the same. */
+    /** No run of 512 calls comes this far: the answers here are free, but the class keeps to the promise. */
     private static void passBeyondTheEnd(Check check) {
         KerbHours k = new KerbHours();
         int now = 0;

@@ -22,14 +22,18 @@ public final class RefusalsTest {
     private record Refused(String name, Consumer<KerbHours> call) {
     }
 
+    private static final Class<IndexOutOfBoundsException> INDEX = IndexOutOfBoundsException.class;
+    private static final Class<IllegalArgumentException> ARGUMENT = IllegalArgumentException.class;
+    private static final Class<IllegalStateException> STATE = IllegalStateException.class;
     private static final Twins BUSY = new Twins(Twins::busy);
-    /** As many signs, cars, permits and payments as there may be; car 0 stands. */
+    /** As many signs, cars and permits as there may be; car 0 stands. */
     private static final Twins FULL = new Twins(RefusalsTest::full);
 
     public static void main(String[] args) {
         Sentence.runAll("RefusalsTest", SENTENCES);
     }
 
+    /** 150 payments alone, for the probes of the twins are calls too, and an object is good for 512. */
     private static void full(KerbHours k) {
         for (int i = 0; i < 30; i++) {
             k.sign(0, 0, 59, 31, 0, false, false);
@@ -81,10 +85,14 @@ public final class RefusalsTest {
         });
     }
 
-    private static void index(Check check, Refused... refused) {
+    private static void refuse(Check check, Twins twins, Class<? extends RuntimeException> due, Refused... refused) {
         for (Refused r : refused) {
-            BUSY.refusesIndex(check, r.name, r.call);
+            twins.refuses(check, r.name, due, r.call);
         }
+    }
+
+    private static void index(Check check, Refused... refused) {
+        refuse(check, BUSY, INDEX, refused);
     }
 
     private static Refused call(String name, Consumer<KerbHours> call) {
@@ -144,9 +152,7 @@ public final class RefusalsTest {
             call("pay", k -> k.pay(0, 0, 200, 97)), call("fine", k -> k.fine(0, 6)),
             call("streetIs", k -> k.streetIs(0, 5)), call("pass", k -> k.pass(97)),
         };
-        for (Refused r : refused) {
-            BUSY.refusesArgument(check, r.name, r.call);
-        }
+        refuse(check, BUSY, ARGUMENT, refused);
     }
 
     private static void states(Check check) {
@@ -155,16 +161,12 @@ public final class RefusalsTest {
             call("park", k -> k.park(0, 3, 50)), call("leave", k -> k.leave(1)), call("appeal", k -> k.appeal(0)),
             call("payFine", k -> k.payFine(0)), call("tow", k -> k.tow(0)),
         };
-        for (Refused r : refused) {
-            BUSY.refusesState(check, r.name, r.call);
-        }
+        refuse(check, BUSY, STATE, refused);
         Refused[] full = {
             call("sign", k -> Moves.plain(k, 0, 0, 0)), call("car", k -> k.car(3, 0)),
             call("permit", k -> k.permit(0, 0, 0, 500, 500)),
         };
-        for (Refused r : full) {
-            FULL.refusesState(check, r.name, r.call);
-        }
+        refuse(check, FULL, STATE, full);
         KerbHours k = new KerbHours();
         full(k);
         fillPayments(k);
@@ -190,9 +192,7 @@ public final class RefusalsTest {
             call("pay for no street", k -> k.pay(0, 4, 1, 0)), call("fine of no fine", k -> k.fine(0, 6)),
             call("streetIs of no street", k -> k.streetIs(4, 5)),
         };
-        for (Refused r : refused) {
-            FULL.refusesIndex(check, r.name, r.call);
-        }
+        refuse(check, FULL, INDEX, refused);
     }
 
     private static void argumentGoesAheadOfState(Check check) {
@@ -204,9 +204,7 @@ public final class RefusalsTest {
             call("permit 40 from 5 to 4", k -> k.permit(0, 0, 0, 5, 4)),
             call("permit 40 to 521", k -> k.permit(0, 0, 0, 0, 521)),
         };
-        for (Refused r : refused) {
-            FULL.refusesArgument(check, r.name, r.call);
-        }
+        refuse(check, FULL, ARGUMENT, refused);
         KerbHours k = new KerbHours();
         full(k);
         fillPayments(k);

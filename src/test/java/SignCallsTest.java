@@ -34,19 +34,24 @@ public final class SignCallsTest {
         Sentence.promise(6, "Throws `IllegalStateException` if it is down", SignCallsTest::isDown),
         Sentence.promise(7, "Returns the sign that counts at a metre and a quarter, by all that is told.",
                 SignCallsTest::ruleByAllThatIsTold),
-        Sentence.promise(7, "`quarter`: 0 to 49999", SignCallsTest::ruleQuarter),
-        Sentence.promise(7, "Returns the sign; NONE without.", SignCallsTest::ruleReturns),
-        Sentence.promise(7, NO_STREET_OR_METRE, SignCallsTest::ruleNoStreetOrMetre),
-        Sentence.promise(7, NO_QUARTER, SignCallsTest::ruleNoQuarter),
+        Sentence.promise(7, "`quarter`: 0 to 49999", c -> ruleQuarter(c, KerbHours::rule)),
+        Sentence.promise(7, "Returns the sign; NONE without.", c -> ruleReturns(c, KerbHours::rule)),
+        Sentence.promise(7, NO_STREET_OR_METRE, c -> ruleNoStreetOrMetre(c, KerbHours::rule)),
+        Sentence.promise(7, NO_QUARTER, c -> ruleNoQuarter(c, KerbHours::rule)),
         Sentence.promise(8, "Returns the same, found by leaving out all signs to which another one goes ahead.",
                 SignCallsTest::ruleAnewIsTheSame),
-        Sentence.promise(8, "`quarter`: 0 to 49999", SignCallsTest::ruleAnewQuarter),
-        Sentence.promise(8, "Returns the sign; NONE without.", SignCallsTest::ruleAnewReturns),
-        Sentence.promise(8, NO_STREET_OR_METRE, SignCallsTest::ruleAnewNoStreetOrMetre),
-        Sentence.promise(8, NO_QUARTER, SignCallsTest::ruleAnewNoQuarter),
+        Sentence.promise(8, "`quarter`: 0 to 49999", c -> ruleQuarter(c, KerbHours::ruleAnew)),
+        Sentence.promise(8, "Returns the sign; NONE without.", c -> ruleReturns(c, KerbHours::ruleAnew)),
+        Sentence.promise(8, NO_STREET_OR_METRE, c -> ruleNoStreetOrMetre(c, KerbHours::ruleAnew)),
+        Sentence.promise(8, NO_QUARTER, c -> ruleNoQuarter(c, KerbHours::ruleAnew)),
         Sentence.term("rules, gaps, prices, fines, reasons, debts and money can be asked for.",
                 SignCallsTest::askingForRulesChangesNothing),
     };
+
+    /** rule or ruleAnew: both refuse and answer alike. */
+    private interface RuleCall {
+        int of(KerbHours k, int street, int metre, int quarter);
+    }
 
     private static final int[][] WRONG_PLACES = {{-1, 0}, {4, 0}, {MIN, 0}, {MAX, 0}, {0, -1}, {0, 60}, {0, MIN}, {0, MAX},
             {4, 60}};
@@ -174,8 +179,8 @@ public final class SignCallsTest {
     }
 
     private static void timesRefused(Check check) {
-        int[][] wrong = {{-1, 0, 1}, {MIN, 0, 1}, {MAX, 0, 1}, {256, 0, 1}, {1, MIN, 5}, {1, MAX, MIN}, {1, 0, MAX}, {1, 0, MIN},
-                {1, MAX, MAX}, {0, -1, 97}};
+        int[][] wrong = {{-1, 0, 1}, {MIN, 0, 1}, {MAX, 0, 1}, {256, 0, 1}, {1, MIN, 5}, {1, MAX, MIN}, {1, 0, MAX},
+                {1, 0, MIN}, {1, MAX, MAX}, {0, -1, 97}};
         for (int[] w : wrong) {
             refusedTimes(check, w[0], w[1], w[2]);
         }
@@ -411,34 +416,36 @@ public final class SignCallsTest {
         check.is("times alone are no sign", k.rule(0, 5, 100), 0);
     }
 
-    private static void ruleQuarter(Check check) {
-        BUSY.refusesArgument(check, "rule at -1", k -> k.rule(0, 0, -1));
-        BUSY.refusesArgument(check, "rule at 50000", k -> k.rule(0, 0, 50000));
+    private static void ruleQuarter(Check check, RuleCall rule) {
+        BUSY.refusesArgument(check, "at -1", k -> rule.of(k, 0, 0, -1));
+        BUSY.refusesArgument(check, "at 50000", k -> rule.of(k, 0, 0, 50000));
         KerbHours k = new KerbHours();
         Moves.plain(k, 0, 0, 59);
-        check.is("rule at 0", k.rule(0, 0, 0), 0);
-        check.is("rule at 49999", k.rule(0, 0, 49999), 0);
+        check.is("at 0", rule.of(k, 0, 0, 0), 0);
+        check.is("at 49999", rule.of(k, 0, 0, 49999), 0);
     }
 
-    private static void ruleReturns(Check check) {
+    private static void ruleReturns(Check check, RuleCall rule) {
         KerbHours k = new KerbHours();
-        check.is("no signs", k.rule(3, 59, 0), -1);
+        check.is("no signs", rule.of(k, 3, 59, 0), -1);
         Moves.plain(k, 3, 0, 58);
-        check.is("none of this metre", k.rule(3, 59, 0), -1);
+        check.is("none of this metre", rule.of(k, 3, 59, 0), -1);
         Moves.plain(k, 3, 59, 59);
-        check.is("one", k.rule(3, 59, 0), 1);
+        check.is("one", rule.of(k, 3, 59, 0), 1);
+        check.is("one of another metre", rule.of(k, 3, 58, 0), 0);
     }
 
-    private static void ruleNoStreetOrMetre(Check check) {
+    private static void ruleNoStreetOrMetre(Check check, RuleCall rule) {
         for (int[] w : WRONG_PLACES) {
-            BUSY.refusesIndex(check, "rule(" + w[0] + ", " + w[1] + ", 0)", k -> k.rule(w[0], w[1], 0));
-            BUSY.refusesIndex(check, "rule(" + w[0] + ", " + w[1] + ", 50000)", k -> k.rule(w[0], w[1], 50000));
+            for (int quarter : new int[] {0, -1, 50000}) {
+                BUSY.refusesIndex(check, w[0] + ", " + w[1] + ", " + quarter, k -> rule.of(k, w[0], w[1], quarter));
+            }
         }
     }
 
-    private static void ruleNoQuarter(Check check) {
-        BUSY.refusesArgument(check, "rule at the lowest", k -> k.rule(3, 59, MIN));
-        BUSY.refusesArgument(check, "rule at the highest", k -> k.rule(3, 59, MAX));
+    private static void ruleNoQuarter(Check check, RuleCall rule) {
+        BUSY.refusesArgument(check, "at the lowest", k -> rule.of(k, 3, 59, MIN));
+        BUSY.refusesArgument(check, "at the highest", k -> rule.of(k, 3, 59, MAX));
     }
 
     private static void ruleAnewIsTheSame(Check check) {
@@ -458,36 +465,6 @@ public final class SignCallsTest {
             check.is("rule at metre " + d[0], k.rule(0, d[0], 3 * 96 - 1), d[1]);
             check.is("rule at metre " + d[0] + ", later", k.rule(0, d[0], 3 * 96), d[2]);
         }
-    }
-
-    private static void ruleAnewQuarter(Check check) {
-        BUSY.refusesArgument(check, "ruleAnew at -1", k -> k.ruleAnew(0, 0, -1));
-        BUSY.refusesArgument(check, "ruleAnew at 50000", k -> k.ruleAnew(0, 0, 50000));
-        KerbHours k = new KerbHours();
-        Moves.plain(k, 0, 0, 59);
-        check.is("ruleAnew at 0", k.ruleAnew(0, 0, 0), 0);
-        check.is("ruleAnew at 49999", k.ruleAnew(0, 0, 49999), 0);
-    }
-
-    private static void ruleAnewReturns(Check check) {
-        KerbHours k = new KerbHours();
-        check.is("no signs", k.ruleAnew(3, 59, 0), -1);
-        Moves.plain(k, 3, 0, 58);
-        check.is("none of this metre", k.ruleAnew(3, 59, 0), -1);
-        Moves.plain(k, 3, 59, 59);
-        check.is("one", k.ruleAnew(3, 59, 0), 1);
-    }
-
-    private static void ruleAnewNoStreetOrMetre(Check check) {
-        for (int[] w : WRONG_PLACES) {
-            BUSY.refusesIndex(check, "ruleAnew(" + w[0] + ", " + w[1] + ", 0)", k -> k.ruleAnew(w[0], w[1], 0));
-            BUSY.refusesIndex(check, "ruleAnew(" + w[0] + ", " + w[1] + ", 50000)", k -> k.ruleAnew(w[0], w[1], 50000));
-        }
-    }
-
-    private static void ruleAnewNoQuarter(Check check) {
-        BUSY.refusesArgument(check, "ruleAnew at the lowest", k -> k.ruleAnew(3, 59, MIN));
-        BUSY.refusesArgument(check, "ruleAnew at the highest", k -> k.ruleAnew(3, 59, MAX));
     }
 
     private static void askingForRulesChangesNothing(Check check) {

@@ -38,7 +38,7 @@ final class Twins {
         refuses(check, call, IllegalStateException.class, body);
     }
 
-    private void refuses(Check check, String call, Class<? extends RuntimeException> due, Consumer<KerbHours> body) {
+    void refuses(Check check, String call, Class<? extends RuntimeException> due, Consumer<KerbHours> body) {
         KerbHours k = new KerbHours();
         past.accept(k);
         check.refuses(call, due, () -> body.accept(k));
