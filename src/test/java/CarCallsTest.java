@@ -303,7 +303,7 @@ public final class CarCallsTest {
 
     private static void handRefused(Check check) {
         int[][] wrong = {{-1, 0}, {3, 0}, {39, 0}, {40, 0}, {MIN, 0}, {MAX, 0}, {0, -1}, {0, 6}, {0, 29}, {0, MIN}, {0, MAX},
-                {3, 6}};
+                {1, 6}, {2, -1}, {3, 6}};
         for (int[] w : wrong) {
             BUSY.refusesIndex(check, "hand(" + w[0] + ", " + w[1] + ")", k -> k.hand(w[0], w[1]));
         }
@@ -361,7 +361,11 @@ public final class CarCallsTest {
         check.is("the other one does not", k.judge(1), Moves.NONE);
         check.is("its street", k.streetIs(3, 1), 5);
         k.park(1, 3, 0);
+        check.is("the other one stands too", k.judge(1), KerbHours.FINE);
         check.is("its street with two", k.streetIs(3, 1), 9);
+        k.block(3, 20, true);
+        check.is("the first one stands where it stood", k.judge(0), KerbHours.BLOCKED);
+        check.is("the other one stands elsewhere", k.judge(1), KerbHours.FINE);
         check.is("other streets", k.streetIs(0, 1) + k.streetIs(1, 1) + k.streetIs(2, 1), 0);
     }
 

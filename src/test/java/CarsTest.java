@@ -278,6 +278,9 @@ public final class CarsTest {
         k.leave(0);
         check.is("behind it", k.judge(0), Moves.NONE);
         check.is("its metres behind it", k.streetIs(0, 1), 0);
+        k.park(0, 0, 0);
+        k.leave(0);
+        check.is("left in the quarter in which it parked", k.judge(0), Moves.NONE);
     }
 
     private static void hasStood(Check check) {

@@ -34,7 +34,7 @@ public final class FineCallsTest {
         Sentence.promise(20, "Throws `IllegalStateException` if it is paid", FineCallsTest::payFinePaid),
         Sentence.promise(20, "or taken back", FineCallsTest::payFineTakenBack),
         Sentence.promise(21, "Tells of a fine.", FineCallsTest::fineTells),
-        Sentence.promise(21, "0 its car, 1 its street, 2 its quarter, 3 its judgement,", FineCallsTest::fineWhat),
+        Sentence.promise(21, "`what`: 0 its car, 1 its street, 2 its quarter, 3 its judgement,", FineCallsTest::fineWhat),
         Sentence.promise(21, "4 whether it was taken back (1 or 0),", FineCallsTest::fineTakenBack),
         Sentence.promise(21, "5 whether it is paid", FineCallsTest::finePaid),
         Sentence.promise(21, NO_FINE, FineCallsTest::fineNoFine),

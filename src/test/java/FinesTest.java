@@ -12,6 +12,7 @@ public final class FinesTest {
         Sentence.term("for so many;", FinesTest::paymentForSoMany),
         Sentence.term("it costs their number times the price of the street by now,", FinesTest::costs),
         Sentence.term("4 at first.", FinesTest::priceIsFourAtFirst),
+        Sentence.term("A judgement of a car that stands, at a quarter:", FinesTest::judgementOfACarThatStands),
         Sentence.term("BLOCKED, if one of its metres is blocked;", FinesTest::blockedAtOneMetre),
         Sentence.term("BLOCKED, if one of its metres is blocked;", FinesTest::blockedGoesAheadOfAll),
         Sentence.term("otherwise FORBIDDEN, if the sign that counts at one of its metres", FinesTest::forbiddenAtOneMetre),
@@ -173,6 +174,25 @@ public final class FinesTest {
 
     // ---- judgements
 
+    private static void judgementOfACarThatStands(Check check) {
+        KerbHours k = new KerbHours();
+        k.times(127, 1, 2);
+        Moves.letting(k, Moves.NOBODY, 2, 0, 59);
+        k.car(3, Moves.VISITOR);
+        k.car(3, Moves.VISITOR);
+        k.pass(1);
+        check.is("it does not stand", k.judge(0), Moves.NONE);
+        k.park(0, 2, 0);
+        check.is("it stands", k.judge(0), KerbHours.FORBIDDEN);
+        check.is("another one does not", k.judge(1), Moves.NONE);
+        check.is("its fine at this quarter", k.look(2), 1);
+        k.pass(1);
+        check.is("at another quarter", k.judge(0), KerbHours.FINE);
+        check.is("its fine, at another quarter", k.appeal(0), false);
+        k.leave(0);
+        check.is("it stands no more", k.judge(0), Moves.NONE);
+    }
+
     private static void blockedAtOneMetre(Check check) {
         KerbHours k = new KerbHours();
         Moves.parked(k, 5, Moves.VISITOR, 1, 20);
@@ -272,6 +292,8 @@ public final class FinesTest {
         check.is("at its other metres", k.judge(1), KerbHours.FINE);
         Moves.withStay(k, 9, 0, 0, 0);
         check.is("the sign told last counts", k.judge(0), KerbHours.FINE);
+        Moves.plain(k, 0, 10, 10);
+        check.is("at its other metres, any stay at its first one", k.judge(1), KerbHours.FINE);
     }
 
     private static void overstayedGoesAhead(Check check) {
@@ -306,6 +328,8 @@ public final class FinesTest {
         check.is("at its other metres", k.judge(1), KerbHours.FINE);
         Moves.plain(k, 0, 0, 0);
         check.is("the sign told last has none", k.judge(0), KerbHours.FINE);
+        Moves.plain(k, 0, 10, 10);
+        check.is("at its other metres, and none at its first one", k.judge(1), KerbHours.FINE);
     }
 
     private static void unpaidBehindOneQuarter(Check check) {
@@ -322,12 +346,16 @@ public final class FinesTest {
 
     private static void unpaidIfNoneCovers(Check check) {
         KerbHours k = withFee();
+        k.car(3, Moves.VISITOR);
         k.pass(10);
         k.pay(0, 0, 5, 5);
         check.is("one up to the quarter ahead", k.judge(0), KerbHours.UNPAID);
+        k.pay(1, 0, 10, 1);
+        k.pay(0, 1, 10, 1);
+        check.is("one of another car, and one for another street", k.judge(0), KerbHours.UNPAID);
         k.pay(0, 0, 10, 1);
         k.pay(0, 0, 0, 1);
-        check.is("one of three covers it", k.judge(0), KerbHours.FINE);
+        check.is("one of many covers it", k.judge(0), KerbHours.FINE);
         k.pass(1);
         check.is("none covers the next", k.judge(0), KerbHours.UNPAID);
     }

@@ -14,7 +14,7 @@ public final class PricesTest {
         Sentence.term("if it is less than 40 hundredths, 1 less,", PricesTest::lessThan40Hundredths),
         Sentence.term("at least 0.", PricesTest::atLeast0),
         Sentence.promise(24, "Tells of a street.", PricesTest::streetIsTells),
-        Sentence.promise(24, "0 its price,", PricesTest::price),
+        Sentence.promise(24, "`what`: 0 its price,", PricesTest::price),
         Sentence.promise(24, "1 how many metres are taken now,", PricesTest::takenNow),
         Sentence.promise(24, "2 what payments for it cost,", PricesTest::paymentsCost),
         Sentence.promise(24, "3 how many fines were given there,", PricesTest::finesGiven),
@@ -252,6 +252,11 @@ public final class PricesTest {
         k.pay(0, 1, 0, 3);
         check.is("one more by 3", k.streetIs(1, 2), 37);
         check.is("none", k.streetIs(0, 2), 0);
+        k.park(0, 1, 0);
+        k.block(1, 0, true);
+        k.look(1);
+        check.is("a fine that is paid", k.payFine(0), 100);
+        check.is("it is no payment for the street", k.streetIs(1, 2), 37);
     }
 
     private static void finesGiven(Check check) {

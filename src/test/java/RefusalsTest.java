@@ -224,7 +224,7 @@ public final class RefusalsTest {
             refused.accept(() -> k.takeDown(3));
             refused.accept(() -> k.car(13, 0));
             refused.accept(() -> k.permit(1, 1, 0, 2, 3));
-            refused.accept(() -> k.hand(0, 6));
+            refused.accept(() -> k.hand(1, 6));
             refused.accept(() -> k.park(1, 0, 29));
             refused.accept(() -> k.leave(1));
             refused.accept(() -> k.pay(4, 3, 200, 97));

@@ -60,8 +60,6 @@ public final class SignCallsTest {
         for (int i = 0; i < 30; i++) {
             Moves.plain(k, 0, 0, 30 + i);
         }
-        k.times(2, 20, 70);
-        k.dates(1, 9);
     });
 
     public static void main(String[] args) {
@@ -124,6 +122,7 @@ public final class SignCallsTest {
         Moves.rule(check, k, 0, 0, 0, 0);
         Moves.rule(check, k, 1, 0, 0, Moves.NONE);
         Moves.rule(check, k, 1, 0, 15, Moves.NONE);
+        Moves.rule(check, k, 1, 0, 96 + 9, Moves.NONE);
         Moves.rule(check, k, 1, 0, 96 + 10, 1);
         Moves.rule(check, k, 1, 0, 96 + 20, Moves.NONE);
         Moves.rule(check, k, 2, 0, 0, 2);
@@ -328,8 +327,9 @@ public final class SignCallsTest {
     }
 
     private static void signOutOfRange(Check check) {
-        int[][] wrong = {{59, 0, 0, 0}, {0, 0, MIN, 0}, {0, 0, MAX, 0}, {0, 0, 64, 0}, {0, 0, 0, MIN}, {0, 0, 0, MAX},
-                {1, 0, 32, 97}};
+        int[][] wrong = {{59, 0, 0, 0}, {1, 0, 31, 96}, {0, 0, MIN, 0}, {0, 0, MAX, 0}, {0, 0, -1, 0}, {0, 0, 32, 0},
+                {0, 0, 33, 0}, {0, 0, 64, 0}, {0, 0, 128, 0}, {0, 0, 0, MIN}, {0, 0, 0, MAX}, {0, 0, 0, -1},
+                {0, 0, 0, 97}, {1, 0, 32, 97}};
         for (int[] w : wrong) {
             String call = "sign(0, " + w[0] + ", " + w[1] + ", " + w[2] + ", " + w[3] + ")";
             BUSY.refusesArgument(check, call, k -> k.sign(0, w[0], w[1], w[2], w[3], false, false));

@@ -307,7 +307,9 @@ public final class SignsTest {
         Moves.plain(k, 1, 0, 59);
         k.times(2, 10, 20);
         k.dates(7, 9);
-        Moves.rule(check, k, 1, 0, 0, 1);
+        for (int quarter : new int[] {0, 8 * 96 + 10, 8 * 96 + 20, 9 * 96 + 15, 20 * 96, 49999}) {
+            Moves.rule(check, k, 1, 0, quarter, 1);
+        }
         KerbHours other = new KerbHours();
         other.dates(7, 9);
         other.times(2, 10, 20);

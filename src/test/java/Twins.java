@@ -21,9 +21,16 @@ final class Twins {
 
     Twins(Consumer<KerbHours> past) {
         this.past = past;
-        for (Consumer<Answers> probe : probes) {
-            answersWithout.add(answersBehind(k -> { }, probe));
+    }
+
+    /** Asked for by the first test that needs them, so that a past that goes wrong is told as that test's fault. */
+    private List<List<Long>> answersWithout() {
+        if (answersWithout.isEmpty()) {
+            for (Consumer<Answers> probe : probes) {
+                answersWithout.add(answersBehind(k -> { }, probe));
+            }
         }
+        return answersWithout;
     }
 
     void refusesIndex(Check check, String call, Consumer<KerbHours> body) {
@@ -48,7 +55,7 @@ final class Twins {
     /** The call may answer or throw: what counts is that nothing is different behind it. */
     void isUnchangedBy(Check check, String call, Consumer<KerbHours> body) {
         for (int i = 0; i < probes.size(); i++) {
-            List<Long> without = answersWithout.get(i);
+            List<Long> without = answersWithout().get(i);
             List<Long> with = answersBehind(body, probes.get(i));
             int first = 0;
             while (first < without.size() && first < with.size() && without.get(first).equals(with.get(first))) {
