@@ -368,9 +368,14 @@ public final class PricesTest {
             now = k.pass(96);
         }
         int left = 49999 - now;
+        Moves.parked(k, 3, Moves.VISITOR, 0, 0);
         check.refusesState("one beyond the end", () -> k.pass(left + 1));
+        check.is("nothing went by", k.streetIs(0, 4), 0);
+        check.refusesState("as many as can be", () -> k.pass(96));
         check.refusesArgument("out of range goes ahead", () -> k.pass(97));
+        check.is("nothing went by then", k.streetIs(0, 4), 0);
         check.is("the end", k.pass(left), 49999);
+        check.is("taken up to the end", k.streetIs(0, 4), 3 * left);
         check.refusesState("pass(1) at the end", () -> k.pass(1));
         check.refusesArgument("pass(0) at the end", () -> k.pass(0));
         Moves.plain(k, 0, 0, 59);
